@@ -1,0 +1,118 @@
+/** Promise 14 (poke), promise 15 (badAt) and promise 16 (byteAt). */
+public final class BlocksTest {
+    public static void main(String[] args) {
+        pokeTurnsOneByte();
+        pokeRefuses();
+        byteAtTellsAndRefuses();
+        badAtTellsTheFirst();
+        badAtKnowsGoodBlocks();
+        allGoOnWhenCut();
+        Check.finish();
+    }
+
+    private static void pokeTurnsOneByte() {
+        ContentLibrary x = new ContentLibrary(3);
+        Check.due("poke", x.poke(2, 63, 255), 255);
+        Check.due("poke again", x.poke(2, 63, 15), 240);
+        Check.due("poke with 0", x.poke(2, 63, 0), 240);
+        Check.due("poke", x.poke(0, 0, 128), 128);
+        int[] bytes = Check.allBytes(x);
+        for (int i = 0; i < bytes.length; i++) {
+            Check.due("byte " + i, bytes[i], i == 0 ? 128 : i == 2 * 64 + 63 ? 240 : 0);
+        }
+        Check.dueTold(x, "poked", 3, 3, 0, 0, 0, 0, -1);
+    }
+
+    private static void pokeRefuses() {
+        ContentLibrary x = new ContentLibrary(3);
+        int[][] places = {{-1, 0}, {3, 0}, {0, -1}, {0, 64}, {Integer.MAX_VALUE, 0}, {Integer.MIN_VALUE, 0},
+            {0, Integer.MAX_VALUE}, {0, Integer.MIN_VALUE}, {1 << 26, 0}, {-1, 64}, {1, -64}};
+        for (int[] p : places) {
+            String at = p[0] + ", " + p[1];
+            Check.dueRefusal(x, "poke(" + at + ", 1)", Check.INDEX, () -> x.poke(p[0], p[1], 1));
+            Check.dueRefusal(x, "poke(" + at + ", 256)", Check.INDEX, () -> x.poke(p[0], p[1], 256));
+            Check.dueRefusal(x, "byteAt(" + at + ")", Check.INDEX, () -> x.byteAt(p[0], p[1]));
+        }
+        for (int mask : new int[] {Integer.MIN_VALUE, -1, 256, Integer.MAX_VALUE}) {
+            Check.dueRefusal(x, "poke(0, 0, " + mask + ")", Check.ARGUMENT, () -> x.poke(0, 0, mask));
+        }
+    }
+
+    private static void byteAtTellsAndRefuses() {
+        ContentLibrary x = new ContentLibrary(40);
+        for (int block = 0; block < 40; block++) {
+            for (int i = 0; i < 64; i++) {
+                x.poke(block, i, (block * 7 + i * 5) % 256);
+            }
+        }
+        for (int block = 0; block < 40; block++) {
+            for (int i = 0; i < 64; i++) {
+                Check.due("byteAt(" + block + ", " + i + ")", x.byteAt(block, i), (block * 7 + i * 5) % 256);
+            }
+        }
+        Check.dueThrow("byteAt(40, 0)", Check.INDEX, () -> x.byteAt(40, 0));
+    }
+
+    private static void badAtTellsTheFirst() {
+        ContentLibrary x = new ContentLibrary(6);
+        Check.due("all 0", x.badAt(), ContentLibrary.NONE);
+        Check.keep(x, 8, 8, 1, 1);
+        Check.due("all good", x.badAt(), ContentLibrary.NONE);
+        x.poke(5, 9, 1);
+        Check.due("a free one", x.badAt(), 5);
+        x.poke(2, 0, 1);
+        Check.due("one in use", x.badAt(), 2);
+        x.poke(0, 63, 1);
+        Check.due("the first", x.badAt(), 0);
+        x.poke(0, 63, 1);
+        x.poke(2, 0, 1);
+        x.poke(5, 9, 1);
+        Check.due("all mended", x.badAt(), ContentLibrary.NONE);
+    }
+
+    private static void badAtKnowsGoodBlocks() {
+        dueBad("kind 0", false, 0, 0, 0, 0);
+        dueBad("kind 1", true, 1, 0, 0, 0);
+        dueBad("kind 2", true, 2, 0, 0, 0);
+        dueBad("kind 3", true, 3, 0, 0, 0);
+        dueBad("kind 4", false, 4, 0, 0, 0);
+        dueBad("kind 255", false, 255, 0, 0, 0);
+        dueBad("number 15", true, 1, 15, 0, 0);
+        dueBad("number 16", false, 1, 16, 0, 0);
+        dueBad("which 255", true, 1, 0, 255, 0);
+        dueBad("56 bytes", true, 1, 0, 0, 56);
+        dueBad("57 bytes", false, 1, 0, 0, 57);
+        for (int i = 0; i < 64; i++) {
+            ContentLibrary x = new ContentLibrary(6);
+            Check.forge(x, 4, Check.block(4, 1, 2, 3, 4, 5, 6, 7));
+            Check.due("good", x.badAt(), ContentLibrary.NONE);
+            x.poke(4, i, 64);
+            Check.due("byte " + i + " changed", x.badAt(), 4);
+            Check.forge(x, 4, new int[64]);
+            Check.due("all 0", x.badAt(), ContentLibrary.NONE);
+            x.poke(4, i, 64);
+            Check.due("byte " + i + " alone", x.badAt(), 4);
+        }
+    }
+
+    private static void dueBad(String what, boolean good, int kind, int number, int which, int count) {
+        ContentLibrary x = new ContentLibrary(6);
+        Check.forge(x, 3, Check.block(3, kind, number, which, count, 1, 2, 3));
+        Check.due(what, x.badAt(), good ? ContentLibrary.NONE : 3);
+    }
+
+    private static void allGoOnWhenCut() {
+        ContentLibrary x = new ContentLibrary(6);
+        Check.keep(x, 1, 1, 1, 1);
+        x.fuse(2);
+        Check.keep(x, 1, 1, 2, 1);
+        Check.due("a block half written", x.badAt(), 2);
+        Check.due("its number", x.byteAt(2, 5), 1);
+        Check.due("poke", x.poke(2, 5, 1), 0);
+        Check.due("all 0", x.badAt(), ContentLibrary.NONE);
+        Check.dueRefusal(x, "byteAt(6, 0)", Check.INDEX, () -> x.byteAt(6, 0));
+        Check.dueRefusal(x, "poke(0, 64, 0)", Check.INDEX, () -> x.poke(0, 64, 0));
+        Check.dueRefusal(x, "poke(0, 0, -1)", Check.ARGUMENT, () -> x.poke(0, 0, -1));
+        Check.due("still cut", x.told(5), 1);
+    }
+}

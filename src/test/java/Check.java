@@ -1,0 +1,186 @@
+import java.nio.ByteBuffer;
+import java.security.MessageDigest;
+import java.security.NoSuchAlgorithmException;
+import java.util.Arrays;
+import java.util.function.IntSupplier;
+
+/** What the tests share: due answers, due exceptions, and the blocks as the document tells them. */
+final class Check {
+    static final Class<? extends RuntimeException> STATE = IllegalStateException.class;
+    static final Class<? extends RuntimeException> INDEX = IndexOutOfBoundsException.class;
+    static final Class<? extends RuntimeException> ARGUMENT = IllegalArgumentException.class;
+    static final Class<? extends RuntimeException> UNSUPPORTED = UnsupportedOperationException.class;
+
+    private static int wrong = 0;
+
+    private Check() {
+    }
+
+    static void due(String call, long got, long want) {
+        if (got != want) {
+            wrong++;
+            System.out.println(call + " answered " + got + ", due is " + want);
+        }
+    }
+
+    static void dueThrow(String call, Class<? extends RuntimeException> want, IntSupplier body) {
+        try {
+            int got = body.getAsInt();
+            wrong++;
+            System.out.println(call + " answered " + got + ", due is " + want.getSimpleName());
+        } catch (RuntimeException e) {
+            if (e.getClass() != want) {
+                wrong++;
+                System.out.println(call + " threw " + e + ", due is " + want.getSimpleName());
+            }
+        }
+    }
+
+    /** Like dueThrow, and the call changes nothing that can be seen. */
+    static void dueRefusal(ContentLibrary x, String call, Class<? extends RuntimeException> want, IntSupplier body) {
+        String before = seen(x);
+        dueThrow(call, want, body);
+        dueSame(call + " leaves all as it was", before, seen(x));
+    }
+
+    static void dueSame(String what, Object want, Object got) {
+        if (!want.equals(got)) {
+            wrong++;
+            System.out.println(what + ": is " + got + ", due is " + want);
+        }
+    }
+
+    static void dueTold(ContentLibrary x, String when, int... wanted) {
+        for (int what = 0; what < wanted.length; what++) {
+            due(when + ": told(" + what + ")", x.told(what), wanted[what]);
+        }
+    }
+
+    static void finish() {
+        System.out.println(wrong == 0 ? "all answers are as due" : wrong + " answers are not as due");
+        if (wrong != 0) {
+            System.exit(1);
+        }
+    }
+
+    /** All that can be seen of a library without changing it. */
+    static String seen(ContentLibrary x) {
+        StringBuilder text = new StringBuilder();
+        for (int what = -1; what < 8; what++) {
+            text.append(x.told(what)).append(' ');
+        }
+        text.append(x.badAt()).append(Arrays.toString(allBytes(x)));
+        if (x.told(5) == 0) {
+            for (int number = 0; number < 16; number++) {
+                text.append(seenNumber(x, number));
+            }
+            for (int k = 0; k < x.told(4); k++) {
+                text.append(x.found(k, 0)).append('/').append(x.found(k, 1)).append(' ');
+            }
+        }
+        return text.toString();
+    }
+
+    private static String seenNumber(ContentLibrary x, int number) {
+        StringBuilder text = new StringBuilder();
+        try {
+            text.append(number).append(':').append(x.print(number));
+            for (int i = 0; i < 8; i++) {
+                text.append(',').append(x.digest(number, i));
+            }
+            return text.append(' ').toString();
+        } catch (IndexOutOfBoundsException e) {
+            return "- ";
+        }
+    }
+
+    static int[] allBytes(ContentLibrary x) {
+        int[] bytes = new int[x.told(0) * 64];
+        for (int i = 0; i < bytes.length; i++) {
+            bytes[i] = x.byteAt(i / 64, i % 64);
+        }
+        return bytes;
+    }
+
+    static int[] blockOf(ContentLibrary x, int block) {
+        int[] bytes = new int[64];
+        for (int i = 0; i < 64; i++) {
+            bytes[i] = x.byteAt(block, i);
+        }
+        return bytes;
+    }
+
+    /** A whole picture being made. */
+    static int make(ContentLibrary x, int width, int height, int v, int step) {
+        int picture = x.picture(width, height);
+        x.samples(picture, width * height, v, step);
+        return picture;
+    }
+
+    static int keep(ContentLibrary x, int width, int height, int v, int step) {
+        return x.keep(make(x, width, height, v, step));
+    }
+
+    static int[] message(int width, int height, int v, int step) {
+        int[] message = new int[2 + width * height];
+        message[0] = width;
+        message[1] = height;
+        for (int i = 0; i < width * height; i++) {
+            message[2 + i] = Math.floorMod(v + i * step, 256);
+        }
+        return message;
+    }
+
+    static int[] digest(int[] message) {
+        byte[] bytes = new byte[message.length];
+        for (int i = 0; i < bytes.length; i++) {
+            bytes[i] = (byte) message[i];
+        }
+        try {
+            byte[] hash = MessageDigest.getInstance("SHA-256").digest(bytes);
+            ByteBuffer words = ByteBuffer.wrap(hash);
+            int[] digest = new int[8];
+            for (int i = 0; i < 8; i++) {
+                digest[i] = words.getInt();
+            }
+            return digest;
+        } catch (NoSuchAlgorithmException e) {
+            throw new IllegalStateException("this Java has no SHA-256", e);
+        }
+    }
+
+    /** A block with its sum right for a place. */
+    static int[] block(int place, int kind, int number, int which, int count, int... data) {
+        int[] block = new int[64];
+        block[4] = kind;
+        block[5] = number;
+        block[6] = which;
+        block[7] = count;
+        System.arraycopy(data, 0, block, 8, data.length);
+        return seal(place, block);
+    }
+
+    static int[] seal(int place, int[] block) {
+        long sum = place + 256;
+        for (int i = 4; i < 64; i++) {
+            long mixed = (sum ^ block[i]) & 0xFFFFFFFFL;
+            long turned = (mixed << 7 | mixed >>> 25) & 0xFFFFFFFFL;
+            sum = turned * 0x165667B1L & 0xFFFFFFFFL;
+        }
+        for (int i = 0; i < 4; i++) {
+            block[i] = (int) (sum >> 8 * i) & 255;
+        }
+        return block;
+    }
+
+    /** Makes a block's bytes those given, by pokes. */
+    static void forge(ContentLibrary x, int place, int[] block) {
+        for (int i = 0; i < 64; i++) {
+            x.poke(place, i, x.byteAt(place, i) ^ block[i]);
+        }
+    }
+
+    static void dueBlock(ContentLibrary x, String when, int place, int[] wanted) {
+        dueSame(when + ": block " + place, Arrays.toString(wanted), Arrays.toString(blockOf(x, place)));
+    }
+}

@@ -1,0 +1,154 @@
+import java.util.Random;
+import java.util.function.LongSupplier;
+
+/** Long mixed runs of calls, the same on the class and on a plain model, from seeds that never change. */
+public final class ModelTest {
+    private static final int RUNS = 1500;
+    private static final int STEPS = 120;
+    private static final int[] BLOCKS = {0, 1, 2, 3, 4, 5, 6, 8, 12, 20, 39, 40, 41};
+
+    private final Random random;
+    private final ContentLibrary x;
+    private final Model model;
+    private final int blocks;
+    private String call = "";
+
+    private ModelTest(int seed) {
+        random = new Random(seed);
+        int made = BLOCKS[random.nextInt(BLOCKS.length)];
+        x = new ContentLibrary(made);
+        model = new Model(made);
+        blocks = x.told(0);
+    }
+
+    public static void main(String[] args) {
+        for (int seed = 0; seed < RUNS; seed++) {
+            ModelTest run = new ModelTest(seed);
+            for (int i = 0; i < STEPS; i++) {
+                run.step();
+                run.look("run " + seed + ", step " + i + ", behind " + run.call);
+            }
+            run.lookAtBytes("run " + seed);
+        }
+        Check.finish();
+    }
+
+    private void step() {
+        int what = random.nextInt(100);
+        if (what < 40) {
+            keepSome();
+        } else if (what < 46) {
+            int n = number();
+            both("drop(" + n + ")", () -> x.drop(n), () -> model.drop(n));
+        } else if (what < 50) {
+            both("sweep()", () -> x.sweep(), () -> model.sweep());
+        } else if (what < 60) {
+            int f = random.nextInt(3) == 0 ? random.nextInt(5) - 3 : random.nextInt(400);
+            both("fuse(" + f + ")", () -> x.fuse(f), () -> model.fuse(f));
+        } else if (what < 72) {
+            both("reopen()", () -> x.reopen(), () -> model.reopen());
+        } else if (what < 80) {
+            pokeSome();
+        } else if (what < 86) {
+            forgeSome();
+        } else {
+            nearSome();
+        }
+    }
+
+    private int number() {
+        return random.nextInt(5) == 0 ? random.nextInt(18) - 1 : random.nextInt(4);
+    }
+
+    private void keepSome() {
+        int w = 1 + random.nextInt(8) - (random.nextInt(30) == 0 ? 1 : 0);
+        int h = random.nextInt(4) == 0 ? 8 : 1 + random.nextInt(3);
+        both("picture(" + w + ", " + h + ")", () -> x.picture(w, h), () -> model.picture(w, h));
+        int p = random.nextInt(3);
+        int n = random.nextInt(20) == 0 ? random.nextInt(5) - 1 : 64;
+        int v = random.nextInt(3);
+        int s = random.nextInt(3) * 50;
+        both("samples(" + p + ", " + n + ", ..)", () -> x.samples(p, n, v, s), () -> model.samples(p, n, v, s));
+        both("keep(" + p + ")", () -> x.keep(p), () -> model.keep(p));
+    }
+
+    private void pokeSome() {
+        int b = random.nextInt(Math.min(blocks + 1, 8));
+        int i = random.nextInt(3) == 0 ? random.nextInt(65) : random.nextInt(9);
+        int m = random.nextInt(2) == 0 ? 1 << random.nextInt(9) : random.nextInt(3);
+        both("poke(" + b + ", " + i + ", " + m + ")", () -> x.poke(b, i, m), () -> model.poke(b, i, m));
+        if (random.nextInt(2) == 0) {
+            both("reopen()", () -> x.reopen(), () -> model.reopen());
+            both("poke back", () -> x.poke(b, i, m), () -> model.poke(b, i, m));
+        }
+    }
+
+    /** Makes a block good with a head that may or may not fit others. */
+    private void forgeSome() {
+        int place = random.nextInt(blocks);
+        int from = random.nextInt(blocks);
+        int[] block = Check.blockOf(x, from);
+        if (random.nextInt(3) == 0) {
+            block[5] = random.nextInt(3);
+        }
+        if (random.nextInt(4) == 0) {
+            block[4 + random.nextInt(5)] ^= 1 << random.nextInt(3);
+        }
+        Check.seal(place, block);
+        for (int i = 0; i < 64; i++) {
+            int at = i;
+            int mask = x.byteAt(place, i) ^ block[i];
+            both("forging", () -> x.poke(place, at, mask), () -> model.poke(place, at, mask));
+        }
+        if (random.nextInt(2) == 0) {
+            both("reopen()", () -> x.reopen(), () -> model.reopen());
+        }
+    }
+
+    private void nearSome() {
+        int p = random.nextInt(3);
+        int bound = random.nextInt(68) - 1;
+        both("near(" + p + ", " + bound + ")", () -> x.near(p, bound), () -> model.near(p, bound));
+        for (int i = 0; i < 3; i++) {
+            int k = random.nextInt(6) - 1;
+            int what = random.nextInt(6) == 0 ? 2 : random.nextInt(2);
+            both("found(" + k + ", " + what + ")", () -> x.found(k, what), () -> model.found(k, what));
+        }
+    }
+
+    private void look(String when) {
+        for (int what = 0; what < 7; what++) {
+            Check.due(when + ": told(" + what + ")", x.told(what), model.told(what));
+        }
+        Check.due(when + ": badAt()", x.badAt(), model.badAt());
+        int n = number();
+        int i = random.nextInt(9);
+        int column = random.nextInt(4);
+        int row = random.nextInt(4);
+        both("print(" + n + ")", () -> x.print(n), () -> model.print(n));
+        both("digest(" + n + ", " + i + ")", () -> x.digest(n, i), () -> model.digest(n, i));
+        both("sample(" + n + ", ..)", () -> x.sample(n, column, row), () -> model.sample(n, column, row));
+        int block = random.nextInt(blocks);
+        int at = random.nextInt(64);
+        both("byteAt(" + block + ", " + at + ")", () -> x.byteAt(block, at), () -> model.byteAt(block, at));
+    }
+
+    private void lookAtBytes(String when) {
+        for (int i = 0; i < blocks * 64; i++) {
+            Check.due(when + ": byte " + i, x.byteAt(i / 64, i % 64), model.byteAt(i / 64, i % 64));
+        }
+    }
+
+    private void both(String name, LongSupplier one, LongSupplier other) {
+        call = name;
+        Check.dueSame(name, answer(other), answer(one));
+    }
+
+    private static String answer(LongSupplier supplier) {
+        try {
+            return Long.toString(supplier.getAsLong());
+        } catch (RuntimeException e) {
+            return "throws." + e.getClass().getSimpleName();
+        }
+    }
+}
