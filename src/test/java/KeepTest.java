@@ -1,3 +1,5 @@
+import java.util.Arrays;
+
 /** Promise 4 (keep), with the blocks that it writes. */
 public final class KeepTest {
     public static void main(String[] args) {
@@ -31,10 +33,10 @@ public final class KeepTest {
             Check.keep(x, s[0], s[1], 3, 5);
             int[] message = Check.message(s[0], s[1], 3, 5);
             int inFirst = Math.min(56, message.length);
-            int[] first = java.util.Arrays.copyOf(message, inFirst);
+            int[] first = Arrays.copyOf(message, inFirst);
             Check.dueBlock(x, "first", 0, Check.block(0, 1, 0, 0, inFirst, first));
             if (s[2] == 2) {
-                int[] further = java.util.Arrays.copyOfRange(message, 56, message.length);
+                int[] further = Arrays.copyOfRange(message, 56, message.length);
                 Check.dueBlock(x, "further", 1, Check.block(1, 2, 0, 1, further.length, further));
             }
             Check.dueBlock(x, "mark", s[2], Check.block(s[2], 3, 0, 0, 1, s[2]));

@@ -61,15 +61,21 @@ public final class ModelTest {
     }
 
     private void keepSome() {
+        int p = makeSome();
+        both("keep(" + p + ")", () -> x.keep(p), () -> model.keep(p));
+    }
+
+    /** Begins a picture and gives samples, mostly to that one: the picture's number. */
+    private int makeSome() {
         int w = 1 + random.nextInt(8) - (random.nextInt(30) == 0 ? 1 : 0);
         int h = random.nextInt(4) == 0 ? 8 : 1 + random.nextInt(3);
         both("picture(" + w + ", " + h + ")", () -> x.picture(w, h), () -> model.picture(w, h));
-        int p = random.nextInt(3);
+        int p = random.nextInt(3) == 0 ? random.nextInt(3) : x.told(3) - 1;
         int n = random.nextInt(20) == 0 ? random.nextInt(5) - 1 : 64;
         int v = random.nextInt(3);
         int s = random.nextInt(3) * 50;
         both("samples(" + p + ", " + n + ", ..)", () -> x.samples(p, n, v, s), () -> model.samples(p, n, v, s));
-        both("keep(" + p + ")", () -> x.keep(p), () -> model.keep(p));
+        return p;
     }
 
     private void pokeSome() {
@@ -106,7 +112,7 @@ public final class ModelTest {
     }
 
     private void nearSome() {
-        int p = random.nextInt(3);
+        int p = makeSome();
         int bound = random.nextInt(68) - 1;
         both("near(" + p + ", " + bound + ")", () -> x.near(p, bound), () -> model.near(p, bound));
         for (int i = 0; i < 3; i++) {
