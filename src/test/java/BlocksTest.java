@@ -7,6 +7,12 @@ public final class BlocksTest {
         badAtTellsTheFirst();
         badAtKnowsGoodBlocks();
         allGoOnWhenCut();
+        theFirstAndTheLastByte();
+        theLeastAndTheMostMask();
+        pokeIsNoWriting();
+        badAtTheFirstAndTheLastBlock();
+        noBadBlock();
+        byteAtOfOneBlock();
         Check.finish();
     }
 
@@ -114,5 +120,73 @@ public final class BlocksTest {
         Check.dueRefusal(x, "poke(0, 64, 0)", Check.INDEX, () -> x.poke(0, 64, 0));
         Check.dueRefusal(x, "poke(0, 0, -1)", Check.ARGUMENT, () -> x.poke(0, 0, -1));
         Check.due("still cut", x.told(5), 1);
+    }
+
+    private static void theFirstAndTheLastByte() {
+        for (int blocks : new int[] {1, 2, 40}) {
+            ContentLibrary x = new ContentLibrary(blocks);
+            Check.due("the first", x.poke(0, 0, 17), 17);
+            Check.due("the last", x.poke(blocks - 1, 63, 34), 34);
+            Check.due("the first", x.byteAt(0, 0), 17);
+            Check.due("the last", x.byteAt(blocks - 1, 63), 34);
+            Check.dueRefusal(x, "before the first", Check.INDEX, () -> x.poke(0, -1, 1));
+            Check.dueRefusal(x, "behind the last", Check.INDEX, () -> x.poke(blocks - 1, 64, 1));
+            Check.dueRefusal(x, "a block before", Check.INDEX, () -> x.poke(-1, 63, 1));
+            Check.dueRefusal(x, "a block behind", Check.INDEX, () -> x.poke(blocks, 0, 1));
+            Check.dueRefusal(x, "behind a block, not the next one's", Check.INDEX, () -> x.poke(0, 64, 1));
+        }
+    }
+
+    /** "the mask is not 0 .. 255" */
+    private static void theLeastAndTheMostMask() {
+        ContentLibrary x = new ContentLibrary(1);
+        Check.dueRefusal(x, "-1", Check.ARGUMENT, () -> x.poke(0, 9, -1));
+        Check.due("0", x.poke(0, 9, 0), 0);
+        Check.due("255", x.poke(0, 9, 255), 255);
+        Check.due("0 again", x.poke(0, 9, 0), 255);
+        Check.due("255 again", x.poke(0, 9, 255), 0);
+        Check.dueRefusal(x, "256", Check.ARGUMENT, () -> x.poke(0, 9, 256));
+    }
+
+    /** A byte changes "in the block alone": no fuse burns, and nothing that is there changes. */
+    private static void pokeIsNoWriting() {
+        ContentLibrary x = new ContentLibrary(4);
+        Check.keep(x, 2, 1, 5, 6);
+        x.fuse(0);
+        Check.due("poke", x.poke(0, 10, 255), 5 ^ 255);
+        Check.dueTold(x, "poked", 4, 2, 1, 0, 0, 0, 0);
+        Check.due("the sample", x.sample(0, 0, 0), 5);
+    }
+
+    private static void badAtTheFirstAndTheLastBlock() {
+        for (int blocks : new int[] {1, 40}) {
+            ContentLibrary x = new ContentLibrary(blocks);
+            x.poke(blocks - 1, 0, 1);
+            Check.due("the last", x.badAt(), blocks - 1);
+            x.poke(0, 63, 1);
+            Check.due("the first", x.badAt(), 0);
+        }
+    }
+
+    /** "neither all 0 nor GOOD; NONE" */
+    private static void noBadBlock() {
+        ContentLibrary x = new ContentLibrary(40);
+        Check.due("all 0", x.badAt(), ContentLibrary.NONE);
+        for (int block = 0; block < 40; block++) {
+            Check.forge(x, block, Check.block(block, 1 + block % 3, block % 16, block, block % 57, block));
+            Check.due("good, and the rest all 0", x.badAt(), ContentLibrary.NONE);
+        }
+        Check.due("not one of a picture", x.reopen(), 0);
+        Check.due("good all the same", x.badAt(), ContentLibrary.NONE);
+    }
+
+    private static void byteAtOfOneBlock() {
+        ContentLibrary x = new ContentLibrary(1);
+        Check.due("the first", x.byteAt(0, 0), 0);
+        Check.due("the last", x.byteAt(0, 63), 0);
+        Check.dueThrow("before", Check.INDEX, () -> x.byteAt(0, -1));
+        Check.dueThrow("behind", Check.INDEX, () -> x.byteAt(0, 64));
+        Check.dueThrow("a block before", Check.INDEX, () -> x.byteAt(-1, 0));
+        Check.dueThrow("a block behind", Check.INDEX, () -> x.byteAt(1, 0));
     }
 }

@@ -3,6 +3,7 @@ import java.security.MessageDigest;
 import java.security.NoSuchAlgorithmException;
 import java.util.Arrays;
 import java.util.function.IntSupplier;
+import java.util.function.ToLongFunction;
 
 /** What the tests share: due answers, due exceptions, and the blocks as the document tells them. */
 final class Check {
@@ -46,8 +47,21 @@ final class Check {
     static void dueSame(String what, Object want, Object got) {
         if (!want.equals(got)) {
             wrong++;
-            System.out.println(what + ": is " + got + ", due is " + want);
+            System.out.println(what + ": is " + part(got, want) + ", due is " + part(want, got));
         }
+    }
+
+    /** Of a long text, the part where it begins to differ from another. */
+    private static String part(Object one, Object other) {
+        String text = one.toString();
+        String against = other.toString();
+        int at = 0;
+        while (at < text.length() && at < against.length() && text.charAt(at) == against.charAt(at)) {
+            at++;
+        }
+        int from = Math.max(0, at - 40);
+        int to = Math.min(text.length(), at + 80);
+        return text.length() <= 120 ? text : "[from " + from + "] .." + text.substring(from, to) + "..";
     }
 
     static void dueTold(ContentLibrary x, String when, int... wanted) {
@@ -63,51 +77,21 @@ final class Check {
         }
     }
 
-    /** All that can be seen of a library without changing it. */
-    static String seen(ContentLibrary x) {
-        StringBuilder text = new StringBuilder();
-        for (int what = -1; what < 8; what++) {
-            text.append(x.told(what)).append(' ');
+    /** What a call answers, or what it throws. */
+    static String answer(Calls x, ToLongFunction<Calls> body) {
+        try {
+            return Long.toString(body.applyAsLong(x));
+        } catch (RuntimeException e) {
+            return "throws." + e.getClass().getSimpleName();
         }
-        text.append(x.badAt()).append(Arrays.toString(allBytes(x)));
-        if (x.told(5) == 0) {
-            for (int number = 0; number < 16; number++) {
-                text.append(seenNumber(x, number));
-            }
-            for (int k = 0; k < x.told(4); k++) {
-                text.append(x.found(k, 0)).append('/').append(x.found(k, 1)).append(' ');
-            }
-        }
-        return text.toString();
     }
 
-    private static String seenNumber(ContentLibrary x, int number) {
-        StringBuilder text = new StringBuilder();
-        try {
-            text.append(number).append(':').append(x.print(number));
-            for (int i = 0; i < 8; i++) {
-                text.append(',').append(x.digest(number, i));
-            }
-            return text.append(' ').toString();
-        } catch (IndexOutOfBoundsException e) {
-            return "- ";
-        }
+    static String seen(ContentLibrary x) {
+        return Look.seen(Calls.of(x));
     }
 
     static int[] allBytes(ContentLibrary x) {
-        int[] bytes = new int[x.told(0) * 64];
-        for (int i = 0; i < bytes.length; i++) {
-            bytes[i] = x.byteAt(i / 64, i % 64);
-        }
-        return bytes;
-    }
-
-    static int[] blockOf(ContentLibrary x, int block) {
-        int[] bytes = new int[64];
-        for (int i = 0; i < 64; i++) {
-            bytes[i] = x.byteAt(block, i);
-        }
-        return bytes;
+        return Look.bytes(Calls.of(x));
     }
 
     /** A whole picture being made. */
@@ -181,6 +165,6 @@ final class Check {
     }
 
     static void dueBlock(ContentLibrary x, String when, int place, int[] wanted) {
-        dueSame(when + ": block " + place, Arrays.toString(wanted), Arrays.toString(blockOf(x, place)));
+        dueSame(when + ": block " + place, Arrays.toString(wanted), Arrays.toString(Look.block(Calls.of(x), place)));
     }
 }

@@ -1,3 +1,5 @@
+import java.util.Arrays;
+
 /** Promise 5 (digest), promise 6 (print) and promise 7 (sample). */
 public final class ContentTest {
     public static void main(String[] args) {
@@ -7,6 +9,14 @@ public final class ContentTest {
         pokesChangeTheBlockAlone();
         whatIsRefused();
         nothingWhenCut();
+        digestsOfMessagesAtAnEdge();
+        theFirstAndTheLastWord();
+        equalIsNotAbove();
+        byOneAbove();
+        oneBitOfAPrint();
+        placesOfAPrintGoDownward();
+        theFirstAndTheLastSample();
+        contentOfTheFirstAndTheLastNumber();
         Check.finish();
     }
 
@@ -104,5 +114,110 @@ public final class ContentTest {
         Check.dueRefusal(x, "digest of none", Check.STATE, () -> x.digest(-1, 9));
         Check.dueRefusal(x, "print", Check.STATE, () -> (int) x.print(0));
         Check.dueRefusal(x, "sample", Check.STATE, () -> x.sample(0, 0, 0));
+    }
+
+    /** The messages of FIPS 180-4 at an edge: all in one block, its length in a second, its bytes in a second. */
+    private static void digestsOfMessagesAtAnEdge() {
+        // As Python's hashlib tells them.
+        dueDigest(7, 7, 255, 255, 0x39e6f852, 0xb31edd3e, 0xd079647c, 0x9b58faba, 0x12bb01ff, 0xf412cc40, 0xf1ca4537,
+                0x9858b343);
+        dueDigest(7, 8, 0, 1, 0x034d1278, 0xb6701526, 0xf2b188d6, 0x5f7a5545, 0x86c74dbf, 0x66dfa8fa, 0xf77bdf49,
+                0x97dc51ec);
+        dueDigest(8, 8, 255, 0, 0x78def8cc, 0x9e5a361b, 0x71ec5ba8, 0x8d32f43f, 0xd5c43b42, 0x58a8d99f, 0x81a9a132,
+                0x6ce34591);
+    }
+
+    private static void dueDigest(int width, int height, int v, int step, int... words) {
+        ContentLibrary x = new ContentLibrary(3);
+        Check.keep(x, width, height, v, step);
+        for (int i = 0; i < 8; i++) {
+            Check.due("digest " + i + " of " + width + " by " + height, x.digest(0, i), words[i]);
+        }
+    }
+
+    /** "eight words" */
+    private static void theFirstAndTheLastWord() {
+        ContentLibrary x = new ContentLibrary(2);
+        Check.keep(x, 5, 5, 3, 9);
+        Check.due("the first", x.digest(0, 0), 0x2926b118);
+        Check.due("the last", x.digest(0, 7), 0xc6fd1118);
+        Check.dueThrow("before the first", Check.INDEX, () -> x.digest(0, -1));
+        Check.dueThrow("behind the last", Check.INDEX, () -> x.digest(0, 8));
+    }
+
+    private static long printOf(int width, int height, int... samples) {
+        ContentLibrary x = new ContentLibrary(3);
+        x.picture(width, height);
+        for (int sample : samples) {
+            x.samples(0, 1, sample, 0);
+        }
+        return x.print(x.keep(0));
+    }
+
+    /** "is above their sum": a sample that is just the mean is not. */
+    private static void equalIsNotAbove() {
+        Check.due("all 0", printOf(1, 1, 0), 0L);
+        Check.due("all 255", printOf(2, 2, 255, 255, 255, 255), 0L);
+        Check.due("the mean in the midst", printOf(3, 1, 1, 2, 3), 0xC0C0C0C0C0C0C0C0L);
+        Check.due("the mean at first", printOf(1, 3, 2, 1, 3), 0xFFFF000000000000L);
+    }
+
+    private static void byOneAbove() {
+        Check.due("1 times 3 above 2", printOf(3, 1, 1, 1, 0), 0x3F3F3F3F3F3F3F3FL);
+        Check.due("1 times 2 above 1", printOf(2, 1, 1, 0), 0x0F0F0F0F0F0F0F0FL);
+        Check.due("255 times 2 above 509", printOf(1, 2, 255, 254), 0x00000000FFFFFFFFL);
+    }
+
+    /** "bit 8 y + x", from bit 0 to bit 63. */
+    private static void oneBitOfAPrint() {
+        for (int bit = 0; bit < 64; bit++) {
+            int[] samples = new int[64];
+            samples[bit] = 1;
+            Check.due("one sample above, at " + bit, printOf(8, 8, samples), 1L << bit);
+            Arrays.fill(samples, 255);
+            samples[bit] = 254;
+            Check.due("one sample below, at " + bit, printOf(8, 8, samples), ~(1L << bit));
+        }
+    }
+
+    /** "(x times the width / 8, y times the height / 8), downward" */
+    private static void placesOfAPrintGoDownward() {
+        long[] columns = {0xFF, 0xF0, 0xC0, 0xC0, 0x80, 0x80, 0x80, 0x80};
+        for (int side = 2; side <= 8; side++) {
+            int[] samples = new int[side];
+            samples[side - 1] = 9;
+            Check.due("the last of " + side + " columns", printOf(side, 1, samples), columns[side - 1] * 0x0101010101010101L);
+            long rows = 0;
+            for (int y = 0; y < 8; y++) {
+                rows |= (columns[side - 1] >> y & 1) * 0xFFL << 8 * y;
+            }
+            Check.due("the last of " + side + " rows", printOf(1, side, samples), rows);
+        }
+    }
+
+    private static void theFirstAndTheLastSample() {
+        int[][] sizes = {{1, 1}, {8, 1}, {1, 8}, {3, 5}, {8, 8}};
+        for (int[] s : sizes) {
+            ContentLibrary x = new ContentLibrary(3);
+            Check.keep(x, s[0], s[1], 100, 1);
+            Check.due("the first", x.sample(0, 0, 0), 100);
+            Check.due("the last", x.sample(0, s[0] - 1, s[1] - 1), 99 + s[0] * s[1]);
+            Check.dueThrow("before a row", Check.INDEX, () -> x.sample(0, -1, s[1] - 1));
+            Check.dueThrow("behind a row", Check.INDEX, () -> x.sample(0, s[0], 0));
+            Check.dueThrow("before a column", Check.INDEX, () -> x.sample(0, s[0] - 1, -1));
+            Check.dueThrow("behind a column", Check.INDEX, () -> x.sample(0, 0, s[1]));
+        }
+    }
+
+    private static void contentOfTheFirstAndTheLastNumber() {
+        ContentLibrary x = new ContentLibrary(40);
+        for (int i = 0; i < 16; i++) {
+            Check.keep(x, 2, 1, i, 1);
+        }
+        dueContent(x, 0, Check.message(2, 1, 0, 1));
+        dueContent(x, 15, Check.message(2, 1, 15, 1));
+        x.reopen();
+        dueContent(x, 0, Check.message(2, 1, 0, 1));
+        dueContent(x, 15, Check.message(2, 1, 15, 1));
     }
 }

@@ -9,6 +9,15 @@ public final class DropSweepTest {
         sweepWipesFreeBlocks();
         sweepGoesInOrder();
         whatIsRefused();
+        aNumberIsDroppedOnce();
+        theFirstAndTheLastNumber();
+        aFuseJustLongEnoughForADrop();
+        whatIsFoundStaysWhenDropped();
+        nothingToSweep();
+        noBlockIsFree();
+        allFortyAreSwept();
+        aFuseJustLongEnoughForASweep();
+        oneByteIsEnoughToBeSwept();
         Check.finish();
     }
 
@@ -113,5 +122,107 @@ public final class DropSweepTest {
         Check.dueRefusal(x, "drop", Check.STATE, () -> x.drop(0));
         Check.dueRefusal(x, "drop of none", Check.STATE, () -> x.drop(-1));
         Check.dueRefusal(x, "sweep", Check.STATE, () -> x.sweep());
+    }
+
+    private static void aNumberIsDroppedOnce() {
+        ContentLibrary x = new ContentLibrary(4);
+        Check.keep(x, 1, 1, 1, 1);
+        Check.due("drop", x.drop(0), 2);
+        Check.dueRefusal(x, "drop again", Check.INDEX, () -> x.drop(0));
+    }
+
+    private static void theFirstAndTheLastNumber() {
+        ContentLibrary x = new ContentLibrary(40);
+        for (int i = 0; i < 16; i++) {
+            Check.keep(x, 1, 1, i, 1);
+        }
+        Check.dueThrow("before the first", Check.INDEX, () -> x.drop(-1));
+        Check.dueThrow("behind the last", Check.INDEX, () -> x.drop(16));
+        Check.due("the last", x.drop(15), 2);
+        Check.due("the first", x.drop(0), 2);
+        Check.dueTold(x, "dropped", 40, 12, 14);
+        Check.dueBlock(x, "the first's", 0, new int[64]);
+        Check.dueBlock(x, "the last's", 31, new int[64]);
+    }
+
+    /** "CUT, if the fuse ended before all were" */
+    private static void aFuseJustLongEnoughForADrop() {
+        for (int size = 2; size <= 3; size++) {
+            ContentLibrary x = new ContentLibrary(4);
+            Check.keep(x, 8, size == 2 ? 1 : 8, 1, 1);
+            x.fuse(64 * size);
+            Check.due("just enough", x.drop(0), size);
+            Check.dueTold(x, "just enough", 4, 4, 0, 0, 0, 0, 0);
+            ContentLibrary y = new ContentLibrary(4);
+            Check.keep(y, 8, size == 2 ? 1 : 8, 1, 1);
+            y.fuse(64 * size - 1);
+            Check.due("a byte too few", y.drop(0), ContentLibrary.CUT);
+            Check.dueTold(y, "a byte too few", 4, 0, 0, 0, 0, 1, 0);
+            Check.due("its number is not there", y.reopen(), 0);
+        }
+    }
+
+    private static void whatIsFoundStaysWhenDropped() {
+        ContentLibrary x = new ContentLibrary(4);
+        Check.keep(x, 1, 1, 1, 1);
+        x.near(Check.make(x, 1, 1, 1, 1), 0);
+        x.drop(0);
+        Check.due("found", x.told(4), 1);
+        Check.due("its number", x.found(0, 0), 0);
+        Check.due("near again", x.near(0, 64), 0);
+        Check.due("found", x.told(4), 0);
+    }
+
+    private static void nothingToSweep() {
+        ContentLibrary x = new ContentLibrary(40);
+        x.fuse(0);
+        Check.due("all 0", x.sweep(), 0);
+        Check.due("not cut", x.told(5), 0);
+        Check.due("the fuse", x.told(6), 0);
+    }
+
+    private static void noBlockIsFree() {
+        ContentLibrary x = new ContentLibrary(2);
+        Check.keep(x, 1, 1, 1, 1);
+        x.poke(0, 63, 255);
+        x.fuse(0);
+        Check.due("in use, and not swept", x.sweep(), 0);
+        Check.due("the byte", x.byteAt(0, 63), 255);
+    }
+
+    private static void allFortyAreSwept() {
+        ContentLibrary x = new ContentLibrary(40);
+        for (int block = 0; block < 40; block++) {
+            x.poke(block, block, 1 + block);
+        }
+        x.fuse(40 * 64);
+        Check.due("sweep", x.sweep(), 40);
+        Check.due("the fuse", x.told(6), 0);
+        Check.due("sweep again", x.sweep(), 0);
+        Check.dueSame("all swept", Arrays.toString(new int[2560]), Arrays.toString(Check.allBytes(x)));
+    }
+
+    /** "CUT, if the fuse ended before all were" */
+    private static void aFuseJustLongEnoughForASweep() {
+        for (int bytes = 127; bytes <= 129; bytes++) {
+            ContentLibrary x = new ContentLibrary(40);
+            x.poke(0, 0, 1);
+            x.poke(39, 63, 1);
+            x.fuse(bytes);
+            Check.due("with " + bytes, x.sweep(), bytes < 128 ? ContentLibrary.CUT : 2);
+            Check.due("cut", x.told(5), bytes < 128 ? 1 : 0);
+            Check.due("the fuse", x.told(6), bytes == 129 ? 1 : 0);
+            Check.due("the last byte", x.byteAt(39, 63), bytes < 128 ? 1 : 0);
+        }
+    }
+
+    /** "that are not all 0" */
+    private static void oneByteIsEnoughToBeSwept() {
+        for (int i = 0; i < 64; i++) {
+            ContentLibrary x = new ContentLibrary(3);
+            x.poke(1, i, 1);
+            Check.due("byte " + i, x.sweep(), 1);
+            Check.due("the byte", x.byteAt(1, i), 0);
+        }
     }
 }

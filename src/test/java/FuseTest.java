@@ -11,6 +11,14 @@ public final class FuseTest {
         aFuseThatEndsWithTheLastByte();
         aCutAtAnyByteOfKeeping();
         aCutAtAnyByteOfDropping();
+        theLeastAndTheMostFuse();
+        aFuseOfOneByte();
+        aFuseOf0Bytes();
+        noneTakesAFuseAway();
+        aFuseIsSetAnewBeforeItsEnd();
+        aFuseGoesOnOverCalls();
+        onlyTheBlocksAreThereWhenCut();
+        aCutAtAnyByteOfSweeping();
         Check.finish();
     }
 
@@ -120,6 +128,96 @@ public final class FuseTest {
             Check.due("first", x.sample(0, 1, 1), 4);
             x.sweep();
             Check.due("swept", x.badAt(), ContentLibrary.NONE);
+        }
+    }
+
+    /** "IllegalArgument: it is below NONE." */
+    private static void theLeastAndTheMostFuse() {
+        ContentLibrary x = new ContentLibrary(4);
+        Check.dueRefusal(x, "below NONE", Check.ARGUMENT, () -> x.fuse(ContentLibrary.NONE - 1));
+        Check.due("NONE", x.fuse(ContentLibrary.NONE), ContentLibrary.NONE);
+        Check.due("the most", x.fuse(Integer.MAX_VALUE), ContentLibrary.NONE);
+        Check.keep(x, 1, 1, 1, 1);
+        Check.due("what is left of the most", x.fuse(0), Integer.MAX_VALUE - 130);
+    }
+
+    /** "after so many bytes more the next one is not written" */
+    private static void aFuseOfOneByte() {
+        ContentLibrary x = new ContentLibrary(4);
+        x.poke(0, 4, 77);
+        x.poke(0, 5, 88);
+        x.fuse(1);
+        Check.due("keep", Check.keep(x, 1, 1, 1, 1), ContentLibrary.CUT);
+        Check.due("the first byte, its kind", x.byteAt(0, 4), 0);
+        Check.due("the second byte, its number", x.byteAt(0, 5), 88);
+    }
+
+    private static void aFuseOf0Bytes() {
+        ContentLibrary x = new ContentLibrary(4);
+        x.poke(0, 4, 77);
+        x.fuse(0);
+        Check.due("not cut yet", x.told(5), 0);
+        Check.due("keep", Check.keep(x, 1, 1, 1, 1), ContentLibrary.CUT);
+        Check.due("cut", x.told(5), 1);
+        Check.due("no byte is written", x.byteAt(0, 4), 77);
+    }
+
+    /** "NONE: never" */
+    private static void noneTakesAFuseAway() {
+        ContentLibrary x = new ContentLibrary(4);
+        x.fuse(0);
+        Check.due("what it was", x.fuse(ContentLibrary.NONE), 0);
+        Check.due("keep", Check.keep(x, 1, 1, 1, 1), 0);
+        Check.due("drop", x.drop(0), 2);
+        Check.due("told", x.told(6), ContentLibrary.NONE);
+    }
+
+    private static void aFuseIsSetAnewBeforeItsEnd() {
+        ContentLibrary x = new ContentLibrary(6);
+        x.fuse(131);
+        Check.keep(x, 1, 1, 1, 1);
+        Check.due("a byte is left", x.fuse(130), 1);
+        Check.due("keep", Check.keep(x, 1, 1, 2, 1), 1);
+        Check.due("none is left", x.fuse(129), 0);
+        Check.due("keep", Check.keep(x, 1, 1, 3, 1), ContentLibrary.CUT);
+    }
+
+    /** Two calls that write use up one fuse. */
+    private static void aFuseGoesOnOverCalls() {
+        ContentLibrary x = new ContentLibrary(6);
+        x.fuse(130 + 128 + 64);
+        Check.due("keep", Check.keep(x, 1, 1, 1, 1), 0);
+        Check.due("told", x.told(6), 192);
+        Check.due("drop", x.drop(0), 2);
+        Check.due("told", x.told(6), 64);
+        x.poke(5, 5, 5);
+        Check.due("sweep", x.sweep(), 1);
+        Check.due("told", x.told(6), 0);
+        Check.due("keep", Check.keep(x, 1, 1, 1, 1), ContentLibrary.CUT);
+    }
+
+    /** "the library is CUT: nothing is there but the blocks" */
+    private static void onlyTheBlocksAreThereWhenCut() {
+        ContentLibrary x = prepared();
+        int picture = Check.make(x, 3, 3, 1, 1);
+        x.near(picture, 64);
+        x.picture(8, 8);
+        x.fuse(70);
+        Check.due("keep", x.keep(picture), ContentLibrary.CUT);
+        Check.dueTold(x, "cut", 12, 0, 0, 0, 0, 1, 0);
+        Check.due("a byte of the first block", x.byteAt(0, 4), 1);
+        Check.due("opened", x.reopen(), 2);
+        Check.dueTold(x, "opened", 12, 7, 2, 0, 0, 0, -1);
+    }
+
+    private static void aCutAtAnyByteOfSweeping() {
+        for (int bytes = 0; bytes < 64; bytes++) {
+            ContentLibrary x = prepared();
+            x.fuse(bytes);
+            Check.due("sweep with a fuse of " + bytes, x.sweep(), ContentLibrary.CUT);
+            Check.due("opened", x.reopen(), 2);
+            Check.due("first", x.sample(0, 1, 1), 4);
+            Check.due("second", x.sample(1, 7, 6), 166);
         }
     }
 }

@@ -12,6 +12,18 @@ public final class KeepTest {
         whatIsRefused();
         noRoomLeavesThePicture();
         nothingWhenCut();
+        wholeAtTheLastSample();
+        theLeastRoomForARecord();
+        everyBlockInUse();
+        aBlockTooFewAtTheEnd();
+        aNumberThatIsFreeAgain();
+        staleBlocksAreWipedInOrder();
+        staleBlocksThatAreWrittenOver();
+        blankBlocksAreNotWiped();
+        untoldBytesAre0();
+        sumsThatAreKnown();
+        placesWithGapsRise();
+        aRefusedKeepIsNoCut();
         Check.finish();
     }
 
@@ -152,5 +164,185 @@ public final class KeepTest {
         Check.due("the mark's kind is not written", Check.keep(x, 1, 1, 0, 0), ContentLibrary.CUT);
         Check.dueRefusal(x, "keep", Check.STATE, () -> x.keep(0));
         Check.dueRefusal(x, "keep of none", Check.STATE, () -> x.keep(-1));
+    }
+
+    /** "one is WHOLE when it has all of them" */
+    private static void wholeAtTheLastSample() {
+        int[][] sizes = {{1, 1}, {1, 8}, {8, 1}, {7, 7}, {8, 8}};
+        for (int[] s : sizes) {
+            ContentLibrary x = new ContentLibrary(3);
+            x.picture(s[0], s[1]);
+            for (int i = 0; i < s[0] * s[1]; i++) {
+                Check.dueThrow("with " + i + " samples", Check.ARGUMENT, () -> x.keep(0));
+                x.samples(0, 1, i, 0);
+            }
+            Check.due("with all of them", x.keep(0), 0);
+        }
+    }
+
+    /** "or not so many blocks free": one for each 56 bytes of the message, and one for the mark. */
+    private static void theLeastRoomForARecord() {
+        int[][] cases = {{1, 1, 2}, {7, 7, 2}, {6, 8, 2}, {8, 6, 2}, {7, 8, 3}, {8, 7, 3}, {8, 8, 3}};
+        for (int[] c : cases) {
+            for (int blocks = 1; blocks < c[2]; blocks++) {
+                ContentLibrary small = new ContentLibrary(blocks);
+                int picture = Check.make(small, c[0], c[1], 1, 1);
+                Check.dueRefusal(small, "in " + blocks, Check.UNSUPPORTED, () -> small.keep(picture));
+                Check.due("it stays", small.samples(picture, 1, 0, 0), c[0] * c[1]);
+            }
+            ContentLibrary x = new ContentLibrary(c[2]);
+            Check.due("in " + c[2], Check.keep(x, c[0], c[1], 1, 1), 0);
+            Check.due("all are used", x.told(1), 0);
+        }
+    }
+
+    /** "the least number that is free, 0 .. 15": sixteen in thirty-two blocks, and no more. */
+    private static void everyBlockInUse() {
+        ContentLibrary x = new ContentLibrary(32);
+        for (int i = 0; i < 16; i++) {
+            Check.due("free", x.told(1), 32 - 2 * i);
+            Check.due("keep", Check.keep(x, 1, 1, i, 0), i);
+            Check.due("its mark's number", x.byteAt(2 * i + 1, 5), i);
+        }
+        Check.due("free", x.told(1), 0);
+        Check.due("opened", x.reopen(), 16);
+    }
+
+    /** Thirteen records of two blocks leave one block of forty: too few for any. */
+    private static void aBlockTooFewAtTheEnd() {
+        ContentLibrary x = new ContentLibrary(40);
+        for (int i = 0; i < 13; i++) {
+            Check.due("keep", Check.keep(x, 8, 8, i, 1), i);
+        }
+        Check.due("free", x.told(1), 1);
+        int picture = Check.make(x, 1, 1, 1, 1);
+        Check.dueRefusal(x, "one block for two", Check.UNSUPPORTED, () -> x.keep(picture));
+        Check.due("one that is there", Check.keep(x, 8, 8, 12, 1), 12);
+        Check.due("drop", x.drop(12), 3);
+        Check.due("room again", x.keep(picture), 12);
+        Check.due("free", x.told(1), 2);
+    }
+
+    /** "it gets the least number that is free" */
+    private static void aNumberThatIsFreeAgain() {
+        ContentLibrary x = new ContentLibrary(40);
+        for (int i = 0; i < 16; i++) {
+            Check.keep(x, 1, 1, i, 0);
+        }
+        for (int number : new int[] {15, 0, 8}) {
+            x.drop(number);
+            Check.due("the only one", Check.keep(x, 1, 1, 100 + number, 0), number);
+            Check.due("its sample", x.sample(number, 0, 0), 100 + number);
+        }
+    }
+
+    /** "are wiped (as in DROPPING), in order": three old blocks, and a fuse that ends in each. */
+    private static void staleBlocksAreWipedInOrder() {
+        for (int bytes = 0; bytes <= 3 * 64; bytes++) {
+            ContentLibrary x = new ContentLibrary(9);
+            int[] places = {2, 5, 8};
+            for (int place : places) {
+                for (int i = 0; i < 64; i++) {
+                    x.poke(place, i, i == 5 ? 0 : 100 + i);
+                }
+            }
+            int[] wanted = Check.allBytes(x);
+            for (int i = 0; i < bytes; i++) {
+                int n = i % 64;
+                wanted[places[i / 64] * 64 + (n == 0 ? 4 : n <= 4 ? n - 1 : n)] = 0;
+            }
+            x.fuse(bytes);
+            Check.due("keep with a fuse of " + bytes, Check.keep(x, 1, 1, 1, 0), ContentLibrary.CUT);
+            Check.dueSame("after " + bytes, Arrays.toString(wanted), Arrays.toString(Check.allBytes(x)));
+        }
+    }
+
+    /** Old blocks with the number are wiped first, also where the record comes then: 64 bytes, then 65. */
+    private static void staleBlocksThatAreWrittenOver() {
+        ContentLibrary x = new ContentLibrary(2);
+        Check.forge(x, 0, Check.block(0, 2, 0, 1, 56, 9, 9, 9));
+        Check.forge(x, 1, Check.block(1, 3, 0, 0, 1, 2));
+        x.fuse(2 * 64 + 2 * 65);
+        Check.due("keep", Check.keep(x, 1, 1, 1, 0), 0);
+        Check.due("all bytes of the fuse", x.told(6), 0);
+        Check.dueBlock(x, "first", 0, Check.block(0, 1, 0, 0, 3, 1, 1, 1));
+        Check.dueBlock(x, "mark", 1, Check.block(1, 3, 0, 0, 1, 1));
+    }
+
+    /** "that are not all 0": a blank block has the number 0, and no byte of it is written. */
+    private static void blankBlocksAreNotWiped() {
+        ContentLibrary x = new ContentLibrary(40);
+        x.fuse(130);
+        Check.due("keep at 0", Check.keep(x, 1, 1, 1, 0), 0);
+        Check.due("two blocks written, none wiped", x.told(6), 0);
+        ContentLibrary y = new ContentLibrary(40);
+        for (int i = 0; i < 64; i++) {
+            if (i != 5) {
+                y.poke(39, i, 1);
+                y.fuse(64 + 130);
+                Check.due("keep at 0", Check.keep(y, 1, 1, 1, 0), 0);
+                Check.due("one wiped for byte " + i, y.told(6), 0);
+                Check.due("wiped", y.byteAt(39, i), 0);
+                y.fuse(ContentLibrary.NONE);
+                y.drop(0);
+            }
+        }
+    }
+
+    /** "Bytes that are not told are 0.", whatever stood there. */
+    private static void untoldBytesAre0() {
+        ContentLibrary x = new ContentLibrary(3);
+        for (int i = 0; i < 3 * 64; i++) {
+            x.poke(i / 64, i % 64, 255);
+        }
+        int[] message = Check.message(7, 8, 200, 1);
+        Check.due("keep", Check.keep(x, 7, 8, 200, 1), 0);
+        Check.dueBlock(x, "first", 0, Check.block(0, 1, 0, 0, 56, Arrays.copyOf(message, 56)));
+        Check.dueBlock(x, "further", 1, Check.block(1, 2, 0, 1, 2, message[56], message[57]));
+        Check.dueBlock(x, "mark", 2, Check.block(2, 3, 0, 0, 1, 2));
+        Check.due("opened", x.reopen(), 1);
+    }
+
+    /** "(running over); it stands with the lowest byte first": sums worked out apart from this project's code. */
+    private static void sumsThatAreKnown() {
+        ContentLibrary x = new ContentLibrary(40);
+        Check.keep(x, 1, 1, 0, 0);
+        dueSum(x, 0, 0x9d, 0x17, 0xb5, 0x24);
+        dueSum(x, 1, 0xd3, 0x25, 0xed, 0x85);
+        ContentLibrary y = new ContentLibrary(3);
+        Check.keep(y, 8, 8, 255, 0);
+        dueSum(y, 0, 0x60, 0x5d, 0x60, 0x8e);
+        dueSum(y, 1, 0xbe, 0x12, 0x4d, 0x07);
+        dueSum(y, 2, 0x13, 0x4d, 0xa4, 0x34);
+    }
+
+    private static void dueSum(ContentLibrary x, int block, int... bytes) {
+        for (int i = 0; i < 4; i++) {
+            Check.due("byte " + i + " of the sum of block " + block, x.byteAt(block, i), bytes[i]);
+        }
+    }
+
+    /** "the first ones that are free, in rising order", also over what others have, to the last block. */
+    private static void placesWithGapsRise() {
+        ContentLibrary x = new ContentLibrary(7);
+        for (int i = 0; i < 3; i++) {
+            Check.keep(x, 1, 1, i, 0);
+        }
+        x.drop(0);
+        Check.due("a long one", Check.keep(x, 8, 8, 1, 1), 0);
+        Check.due("its first block", x.byteAt(0, 4), 1);
+        Check.due("its further block", x.byteAt(1, 4), 2);
+        Check.due("its mark in the last block", x.byteAt(6, 4), 3);
+        Check.due("opened", x.reopen(), 3);
+    }
+
+    /** "UnsupportedOperation .. (it stays then)", also with a fuse at its end: no byte is to be written. */
+    private static void aRefusedKeepIsNoCut() {
+        ContentLibrary x = new ContentLibrary(1);
+        int picture = Check.make(x, 1, 1, 1, 1);
+        x.fuse(0);
+        Check.dueRefusal(x, "no room", Check.UNSUPPORTED, () -> x.keep(picture));
+        Check.due("not cut", x.told(5), 0);
+        Check.due("it stays", x.told(3), 1);
     }
 }

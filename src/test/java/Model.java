@@ -8,7 +8,7 @@ import java.util.TreeMap;
  * The document once more, as plainly as the Java library allows: a writing is a list of steps, and whatever can
  * be worked out anew (digests, prints, free blocks) is.
  */
-final class Model {
+final class Model implements Calls {
     private record Step(int block, int i, int value) {
     }
 
@@ -59,7 +59,7 @@ final class Model {
         this.blocks = new int[blocks < 1 ? 1 : blocks > 40 ? 40 : blocks][64];
     }
 
-    int picture(int width, int height) {
+    public int picture(int width, int height) {
         open();
         argument(width >= 1 && width <= 8 && height >= 1 && height <= 8);
         int number = least(drafts, 8);
@@ -67,7 +67,7 @@ final class Model {
         return number;
     }
 
-    int samples(int picture, int n, int v, int step) {
+    public int samples(int picture, int n, int v, int step) {
         open();
         Draft draft = draft(picture);
         argument(n >= 1);
@@ -79,7 +79,7 @@ final class Model {
         return draft.samples.size();
     }
 
-    int keep(int picture) {
+    public int keep(int picture) {
         open();
         Draft draft = draft(picture);
         argument(draft.whole());
@@ -117,26 +117,26 @@ final class Model {
         return number;
     }
 
-    int digest(int number, int i) {
+    public int digest(int number, int i) {
         open();
         int[] digest = Check.digest(entry(number).message());
         index(i >= 0 && i < 8);
         return digest[i];
     }
 
-    long print(int number) {
+    public long print(int number) {
         open();
         return printOf(entry(number).message());
     }
 
-    int sample(int number, int x, int y) {
+    public int sample(int number, int x, int y) {
         open();
         int[] message = entry(number).message();
         index(x >= 0 && y >= 0 && x < message[0] && y < message[1]);
         return message[2 + x + y * message[0]];
     }
 
-    int near(int picture, int bound) {
+    public int near(int picture, int bound) {
         open();
         Draft draft = draft(picture);
         argument(draft.whole() && bound >= 0 && bound <= 64);
@@ -152,14 +152,14 @@ final class Model {
         return found.size();
     }
 
-    int found(int k, int what) {
+    public int found(int k, int what) {
         open();
         index(k >= 0 && k < found.size());
         argument(what == 0 || what == 1);
         return what == 0 ? found.get(k).number() : found.get(k).bits();
     }
 
-    int drop(int number) {
+    public int drop(int number) {
         open();
         Entry entry = entry(number);
         List<Step> steps = new ArrayList<>(wiping(entry.mark()));
@@ -173,7 +173,7 @@ final class Model {
         return entry.places().size();
     }
 
-    int sweep() {
+    public int sweep() {
         open();
         List<Step> steps = new ArrayList<>();
         for (int block : free()) {
@@ -184,7 +184,7 @@ final class Model {
         return done(steps) ? steps.size() / 64 : -2;
     }
 
-    int fuse(int bytes) {
+    public int fuse(int bytes) {
         open();
         argument(bytes >= -1);
         int before = fuse;
@@ -192,7 +192,7 @@ final class Model {
         return before;
     }
 
-    int reopen() {
+    public int reopen() {
         cut = false;
         fuse = -1;
         drafts = new TreeMap<>();
@@ -207,14 +207,14 @@ final class Model {
         return entries.size();
     }
 
-    int poke(int block, int i, int mask) {
+    public int poke(int block, int i, int mask) {
         byteAt(block, i);
         argument(mask >= 0 && mask <= 255);
         blocks[block][i] ^= mask;
         return blocks[block][i];
     }
 
-    int badAt() {
+    public int badAt() {
         for (int block = 0; block < blocks.length; block++) {
             if (!blank(block) && !good(block)) {
                 return block;
@@ -223,12 +223,12 @@ final class Model {
         return -1;
     }
 
-    int byteAt(int block, int i) {
+    public int byteAt(int block, int i) {
         index(block >= 0 && block < blocks.length && i >= 0 && i < 64);
         return blocks[block][i];
     }
 
-    int told(int what) {
+    public int told(int what) {
         int[] told = {blocks.length, cut ? 0 : free().size(), entries.size(), drafts.size(), found.size(), cut ? 1 : 0,
             fuse};
         return what < 0 || what > 6 ? -1 : told[what];

@@ -1,5 +1,5 @@
 import java.util.Random;
-import java.util.function.LongSupplier;
+import java.util.function.ToLongFunction;
 
 /** Long mixed runs of calls, the same on the class and on a plain model, from seeds that never change. */
 public final class ModelTest {
@@ -8,15 +8,15 @@ public final class ModelTest {
     private static final int[] BLOCKS = {0, 1, 2, 3, 4, 5, 6, 8, 12, 20, 39, 40, 41};
 
     private final Random random;
-    private final ContentLibrary x;
-    private final Model model;
+    private final Calls x;
+    private final Calls model;
     private final int blocks;
     private String call = "";
 
     private ModelTest(int seed) {
         random = new Random(seed);
         int made = BLOCKS[random.nextInt(BLOCKS.length)];
-        x = new ContentLibrary(made);
+        x = Calls.of(new ContentLibrary(made));
         model = new Model(made);
         blocks = x.told(0);
     }
@@ -39,14 +39,14 @@ public final class ModelTest {
             keepSome();
         } else if (what < 46) {
             int n = number();
-            both("drop(" + n + ")", () -> x.drop(n), () -> model.drop(n));
+            both("drop(" + n + ")", c -> c.drop(n));
         } else if (what < 50) {
-            both("sweep()", () -> x.sweep(), () -> model.sweep());
+            both("sweep()", c -> c.sweep());
         } else if (what < 60) {
             int f = random.nextInt(3) == 0 ? random.nextInt(5) - 3 : random.nextInt(400);
-            both("fuse(" + f + ")", () -> x.fuse(f), () -> model.fuse(f));
+            both("fuse(" + f + ")", c -> c.fuse(f));
         } else if (what < 72) {
-            both("reopen()", () -> x.reopen(), () -> model.reopen());
+            both("reopen()", c -> c.reopen());
         } else if (what < 80) {
             pokeSome();
         } else if (what < 86) {
@@ -62,19 +62,19 @@ public final class ModelTest {
 
     private void keepSome() {
         int p = makeSome();
-        both("keep(" + p + ")", () -> x.keep(p), () -> model.keep(p));
+        both("keep(" + p + ")", c -> c.keep(p));
     }
 
     /** Begins a picture and gives samples, mostly to that one: the picture's number. */
     private int makeSome() {
         int w = 1 + random.nextInt(8) - (random.nextInt(30) == 0 ? 1 : 0);
         int h = random.nextInt(4) == 0 ? 8 : 1 + random.nextInt(3);
-        both("picture(" + w + ", " + h + ")", () -> x.picture(w, h), () -> model.picture(w, h));
+        both("picture(" + w + ", " + h + ")", c -> c.picture(w, h));
         int p = random.nextInt(3) == 0 ? random.nextInt(3) : x.told(3) - 1;
         int n = random.nextInt(20) == 0 ? random.nextInt(5) - 1 : 64;
         int v = random.nextInt(3);
         int s = random.nextInt(3) * 50;
-        both("samples(" + p + ", " + n + ", ..)", () -> x.samples(p, n, v, s), () -> model.samples(p, n, v, s));
+        both("samples(" + p + ", " + n + ", ..)", c -> c.samples(p, n, v, s));
         return p;
     }
 
@@ -82,10 +82,10 @@ public final class ModelTest {
         int b = random.nextInt(Math.min(blocks + 1, 8));
         int i = random.nextInt(3) == 0 ? random.nextInt(65) : random.nextInt(9);
         int m = random.nextInt(2) == 0 ? 1 << random.nextInt(9) : random.nextInt(3);
-        both("poke(" + b + ", " + i + ", " + m + ")", () -> x.poke(b, i, m), () -> model.poke(b, i, m));
+        both("poke(" + b + ", " + i + ", " + m + ")", c -> c.poke(b, i, m));
         if (random.nextInt(2) == 0) {
-            both("reopen()", () -> x.reopen(), () -> model.reopen());
-            both("poke back", () -> x.poke(b, i, m), () -> model.poke(b, i, m));
+            both("reopen()", c -> c.reopen());
+            both("poke back", c -> c.poke(b, i, m));
         }
     }
 
@@ -93,7 +93,7 @@ public final class ModelTest {
     private void forgeSome() {
         int place = random.nextInt(blocks);
         int from = random.nextInt(blocks);
-        int[] block = Check.blockOf(x, from);
+        int[] block = Look.block(x, from);
         if (random.nextInt(3) == 0) {
             block[5] = random.nextInt(3);
         }
@@ -104,21 +104,21 @@ public final class ModelTest {
         for (int i = 0; i < 64; i++) {
             int at = i;
             int mask = x.byteAt(place, i) ^ block[i];
-            both("forging", () -> x.poke(place, at, mask), () -> model.poke(place, at, mask));
+            both("forging", c -> c.poke(place, at, mask));
         }
         if (random.nextInt(2) == 0) {
-            both("reopen()", () -> x.reopen(), () -> model.reopen());
+            both("reopen()", c -> c.reopen());
         }
     }
 
     private void nearSome() {
         int p = makeSome();
         int bound = random.nextInt(68) - 1;
-        both("near(" + p + ", " + bound + ")", () -> x.near(p, bound), () -> model.near(p, bound));
+        both("near(" + p + ", " + bound + ")", c -> c.near(p, bound));
         for (int i = 0; i < 3; i++) {
             int k = random.nextInt(6) - 1;
             int what = random.nextInt(6) == 0 ? 2 : random.nextInt(2);
-            both("found(" + k + ", " + what + ")", () -> x.found(k, what), () -> model.found(k, what));
+            both("found(" + k + ", " + what + ")", c -> c.found(k, what));
         }
     }
 
@@ -131,12 +131,12 @@ public final class ModelTest {
         int i = random.nextInt(9);
         int column = random.nextInt(4);
         int row = random.nextInt(4);
-        both("print(" + n + ")", () -> x.print(n), () -> model.print(n));
-        both("digest(" + n + ", " + i + ")", () -> x.digest(n, i), () -> model.digest(n, i));
-        both("sample(" + n + ", ..)", () -> x.sample(n, column, row), () -> model.sample(n, column, row));
+        both("print(" + n + ")", c -> c.print(n));
+        both("digest(" + n + ", " + i + ")", c -> c.digest(n, i));
+        both("sample(" + n + ", ..)", c -> c.sample(n, column, row));
         int block = random.nextInt(blocks);
         int at = random.nextInt(64);
-        both("byteAt(" + block + ", " + at + ")", () -> x.byteAt(block, at), () -> model.byteAt(block, at));
+        both("byteAt(" + block + ", " + at + ")", c -> c.byteAt(block, at));
     }
 
     private void lookAtBytes(String when) {
@@ -145,16 +145,8 @@ public final class ModelTest {
         }
     }
 
-    private void both(String name, LongSupplier one, LongSupplier other) {
+    private void both(String name, ToLongFunction<Calls> body) {
         call = name;
-        Check.dueSame(name, answer(other), answer(one));
-    }
-
-    private static String answer(LongSupplier supplier) {
-        try {
-            return Long.toString(supplier.getAsLong());
-        } catch (RuntimeException e) {
-            return "throws." + e.getClass().getSimpleName();
-        }
+        Check.dueSame(name, Check.answer(model, body), Check.answer(x, body));
     }
 }

@@ -7,6 +7,13 @@ public final class NearTest {
         nearRefuses();
         foundRefuses();
         nothingWhenCut();
+        noneIsFoundAtFirst();
+        noneIsFoundOfNone();
+        sixteenAreFound();
+        theLeastAndTheMostBound();
+        aPictureThatIsThereIsNearestToItself();
+        noneFoundTakesThePlaceOfSome();
+        noneIsFoundBehindACut();
         Check.finish();
     }
 
@@ -119,5 +126,75 @@ public final class NearTest {
         Check.dueRefusal(x, "near", Check.STATE, () -> x.near(picture, 3));
         Check.dueRefusal(x, "found", Check.STATE, () -> x.found(0, 0));
         Check.dueRefusal(x, "found of nothing", Check.STATE, () -> x.found(99, 99));
+    }
+
+    private static void noneIsFoundAtFirst() {
+        ContentLibrary x = libraryOf(1, 2);
+        Check.due("told", x.told(4), 0);
+        Check.dueThrow("the number at 0", Check.INDEX, () -> x.found(0, 0));
+        Check.dueThrow("the bits at 0", Check.INDEX, () -> x.found(0, 1));
+    }
+
+    private static void noneIsFoundOfNone() {
+        ContentLibrary x = new ContentLibrary(5);
+        Check.due("near", x.near(withBits(x, 5), 64), 0);
+        Check.due("told", x.told(4), 0);
+        Check.dueThrow("found", Check.INDEX, () -> x.found(0, 0));
+    }
+
+    private static ContentLibrary sixteen() {
+        ContentLibrary x = new ContentLibrary(40);
+        for (int i = 0; i < 16; i++) {
+            Check.keep(x, 2, 1, 100 - i, i % 2 == 0 ? 1 : -1);
+        }
+        return x;
+    }
+
+    /** As many as there can be, with those of the same bits by their numbers. */
+    private static void sixteenAreFound() {
+        ContentLibrary x = sixteen();
+        Check.due("near", x.near(Check.make(x, 2, 1, 5, -1), 64), 16);
+        dueFound(x, "sixteen", 1, 0, 3, 0, 5, 0, 7, 0, 9, 0, 11, 0, 13, 0, 15, 0,
+                0, 64, 2, 64, 4, 64, 6, 64, 8, 64, 10, 64, 12, 64, 14, 64);
+        Check.dueThrow("before the first", Check.INDEX, () -> x.found(-1, 0));
+        Check.dueThrow("behind the last", Check.INDEX, () -> x.found(16, 0));
+    }
+
+    /** "in at most so many bits": 0 and 64 are bounds. */
+    private static void theLeastAndTheMostBound() {
+        ContentLibrary x = sixteen();
+        int picture = Check.make(x, 2, 1, 5, -1);
+        Check.dueThrow("-1", Check.ARGUMENT, () -> x.near(picture, -1));
+        Check.due("0", x.near(picture, 0), 8);
+        Check.due("63", x.near(picture, 63), 8);
+        Check.due("64", x.near(picture, 64), 16);
+        Check.dueThrow("65", Check.ARGUMENT, () -> x.near(picture, 65));
+        Check.due("found by 64", x.told(4), 16);
+    }
+
+    private static void aPictureThatIsThereIsNearestToItself() {
+        ContentLibrary x = libraryOf(7, 6, 5);
+        Check.due("near", x.near(withBits(x, 5), 0), 1);
+        dueFound(x, "itself", 2, 0);
+    }
+
+    private static void noneFoundTakesThePlaceOfSome() {
+        ContentLibrary x = libraryOf(7, 6, 5);
+        Check.due("some", x.near(withBits(x, 5), 64), 3);
+        Check.due("none", x.near(withBits(x, 40), 0), 0);
+        dueFound(x, "none");
+        Check.dueThrow("found", Check.INDEX, () -> x.found(0, 0));
+    }
+
+    /** "nothing is there but the blocks" */
+    private static void noneIsFoundBehindACut() {
+        ContentLibrary x = libraryOf(7, 6, 5);
+        x.near(withBits(x, 5), 64);
+        x.fuse(0);
+        Check.due("drop", x.drop(0), ContentLibrary.CUT);
+        Check.due("told when cut", x.told(4), 0);
+        x.reopen();
+        Check.due("told then", x.told(4), 0);
+        Check.dueThrow("found then", Check.INDEX, () -> x.found(0, 0));
     }
 }

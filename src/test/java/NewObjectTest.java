@@ -9,6 +9,12 @@ public final class NewObjectTest {
         toldOfACutLibrary();
         otherWhatsAreNone();
         objectsAreApart();
+        aBlockHas64Bytes();
+        nothingIsThereAtFirst();
+        thereIsNoFuseAtFirst();
+        toldWhenAllIsFull();
+        toldOfAFuse();
+        otherWhatsAreNoneWhenCut();
         Check.finish();
     }
 
@@ -82,5 +88,90 @@ public final class NewObjectTest {
         Check.make(x, 2, 2, 1, 1);
         x.fuse(3);
         Check.dueSame("another object", before, Check.seen(y));
+    }
+
+    /** "of 64 bytes each, at first 0" */
+    private static void aBlockHas64Bytes() {
+        for (int blocks : new int[] {1, 40}) {
+            ContentLibrary x = new ContentLibrary(blocks);
+            for (int block = 0; block < blocks; block++) {
+                int last = block;
+                Check.due("the last byte of block " + last, x.byteAt(last, 63), 0);
+                Check.dueThrow("a byte behind it", Check.INDEX, () -> x.byteAt(last, 64));
+            }
+        }
+    }
+
+    /** "no picture is there or being made" */
+    private static void nothingIsThereAtFirst() {
+        for (int blocks : new int[] {1, 40}) {
+            ContentLibrary x = new ContentLibrary(blocks);
+            Check.due("nothing bad", x.badAt(), ContentLibrary.NONE);
+            Check.due("nothing to sweep", x.sweep(), 0);
+            Check.due("nothing to open", x.reopen(), 0);
+            Check.due("the first picture's number", x.picture(1, 1), 0);
+            Check.due("it has no samples", x.samples(0, 1, 5, 0), 1);
+            Check.due("none is near", x.near(0, 64), 0);
+        }
+        ContentLibrary x = new ContentLibrary(2);
+        Check.due("the first number", Check.keep(x, 1, 1, 5, 0), 0);
+    }
+
+    /** "and there is no fuse": all may be written, and again. */
+    private static void thereIsNoFuseAtFirst() {
+        ContentLibrary x = new ContentLibrary(40);
+        Check.due("told", x.told(6), ContentLibrary.NONE);
+        for (int round = 0; round < 4; round++) {
+            for (int i = 0; i < 13; i++) {
+                Check.due("keep", Check.keep(x, 8, 8, i, 1), i);
+            }
+            for (int i = 0; i < 13; i++) {
+                Check.due("drop", x.drop(i), 3);
+            }
+        }
+        Check.due("told", x.told(6), ContentLibrary.NONE);
+    }
+
+    /** Eight being made, sixteen there, sixteen found, and no block free. */
+    private static void toldWhenAllIsFull() {
+        ContentLibrary x = new ContentLibrary(32);
+        for (int i = 0; i < 16; i++) {
+            Check.keep(x, 1, 1, i, 0);
+        }
+        for (int i = 0; i < 8; i++) {
+            Check.make(x, 1, 1, i, 0);
+        }
+        Check.due("near", x.near(7, 64), 16);
+        Check.dueTold(x, "full", 32, 0, 16, 8, 16, 0, -1, -1);
+    }
+
+    /** "bytes to the fuse's end, NONE without one, 0 when it has ended" */
+    private static void toldOfAFuse() {
+        ContentLibrary x = new ContentLibrary(4);
+        Check.due("without one", x.told(6), ContentLibrary.NONE);
+        x.fuse(131);
+        Check.due("set", x.told(6), 131);
+        Check.keep(x, 1, 1, 1, 0);
+        Check.due("a byte before its end", x.told(6), 1);
+        x.fuse(128);
+        x.drop(0);
+        Check.due("ended, and not cut", x.told(6), 0);
+        Check.due("not cut", x.told(5), 0);
+        Check.keep(x, 1, 1, 1, 0);
+        Check.due("ended, and cut", x.told(6), 0);
+        Check.due("cut", x.told(5), 1);
+        x.reopen();
+        Check.due("opened", x.told(6), ContentLibrary.NONE);
+        Check.due("no more cut", x.told(5), 0);
+    }
+
+    /** "NONE for another what" */
+    private static void otherWhatsAreNoneWhenCut() {
+        ContentLibrary x = new ContentLibrary(3);
+        x.fuse(0);
+        Check.keep(x, 1, 1, 1, 0);
+        for (int what : new int[] {Integer.MIN_VALUE, -2, -1, 7, 8, Integer.MAX_VALUE}) {
+            Check.due("cut: told(" + what + ")", x.told(what), ContentLibrary.NONE);
+        }
     }
 }

@@ -9,6 +9,17 @@ public final class PictureTest {
         samplesAreRestsBy256();
         samplesRefuse();
         nothingWhenCut();
+        everySizeFromOneToEight();
+        anEighthAndThenRoomAgain();
+        aRefusedPictureTakesNoNumber();
+        picturesGoWhenReopened();
+        aSampleAtATime();
+        exactlyAsManyAsItWants();
+        oneMoreThanItWants();
+        allThatIsLeft();
+        samplesGoToTheirPictureAlone();
+        samplesRunOverAt256();
+        samplesRunOverAtInts();
         Check.finish();
     }
 
@@ -108,5 +119,139 @@ public final class PictureTest {
         Check.dueRefusal(x, "samples of none", Check.STATE, () -> x.samples(-1, 0, 1, 1));
         x.reopen();
         Check.dueThrow("the picture is gone", Check.INDEX, () -> x.samples(1, 1, 1, 1));
+    }
+
+    /** "a width and a height 1 .. 8" */
+    private static void everySizeFromOneToEight() {
+        for (int width = 1; width <= 8; width++) {
+            for (int height = 1; height <= 8; height++) {
+                ContentLibrary x = new ContentLibrary(1);
+                Check.due("picture", x.picture(width, height), 0);
+                Check.due("all its samples", x.samples(0, 65, 0, 0), width * height);
+            }
+        }
+    }
+
+    /** "UnsupportedOperation: there are eight": seven are not, and seven again are not. */
+    private static void anEighthAndThenRoomAgain() {
+        ContentLibrary x = new ContentLibrary(40);
+        for (int i = 0; i < 7; i++) {
+            Check.make(x, 1, 1, i, 0);
+        }
+        Check.due("an eighth", Check.make(x, 1, 1, 7, 0), 7);
+        Check.dueThrow("a ninth", Check.UNSUPPORTED, () -> x.picture(1, 1));
+        x.keep(7);
+        Check.due("an eighth again", x.picture(1, 1), 7);
+        Check.dueThrow("a ninth again", Check.UNSUPPORTED, () -> x.picture(1, 1));
+        x.keep(0);
+        Check.due("the least that is free", x.picture(1, 1), 0);
+    }
+
+    private static void aRefusedPictureTakesNoNumber() {
+        ContentLibrary x = new ContentLibrary(4);
+        Check.dueThrow("no width", Check.ARGUMENT, () -> x.picture(0, 8));
+        Check.dueThrow("no height", Check.ARGUMENT, () -> x.picture(8, 9));
+        Check.due("none is being made", x.told(3), 0);
+        Check.due("the first", x.picture(8, 8), 0);
+    }
+
+    private static void picturesGoWhenReopened() {
+        ContentLibrary x = new ContentLibrary(4);
+        for (int i = 0; i < 8; i++) {
+            Check.make(x, 2, 2, i, 0);
+        }
+        x.reopen();
+        Check.due("none is being made", x.told(3), 0);
+        Check.due("the least number", x.picture(3, 1), 0);
+        Check.due("it has no samples", x.samples(0, 1, 0, 0), 1);
+    }
+
+    private static void aSampleAtATime() {
+        ContentLibrary x = new ContentLibrary(4);
+        x.picture(8, 8);
+        for (int i = 1; i <= 64; i++) {
+            Check.due("sample " + i, x.samples(0, 1, i, 99), i);
+        }
+        Check.due("it wants no more", x.samples(0, 1, 0, 0), 64);
+        x.keep(0);
+        for (int i = 0; i < 64; i++) {
+            Check.due("sample", x.sample(0, i % 8, i / 8), i + 1);
+        }
+    }
+
+    /** "n or as many as it wants" */
+    private static void exactlyAsManyAsItWants() {
+        ContentLibrary x = new ContentLibrary(4);
+        x.picture(3, 2);
+        Check.due("one less", x.samples(0, 5, 1, 1), 5);
+        Check.due("the one", x.samples(0, 1, 6, 1), 6);
+        Check.due("kept", x.keep(0), 0);
+    }
+
+    private static void oneMoreThanItWants() {
+        ContentLibrary x = new ContentLibrary(4);
+        x.picture(3, 2);
+        Check.due("one more", x.samples(0, 7, 1, 1), 6);
+        Check.due("the last is the sixth", x.keep(0), 0);
+        Check.due("sample", x.sample(0, 2, 1), 6);
+    }
+
+    private static void allThatIsLeft() {
+        ContentLibrary x = new ContentLibrary(4);
+        x.picture(3, 2);
+        Check.due("two", x.samples(0, 2, 1, 1), 2);
+        Check.due("all that is left", x.samples(0, Integer.MAX_VALUE, 100, 1), 6);
+        x.keep(0);
+        Check.due("the third", x.sample(0, 2, 0), 100);
+        Check.due("the sixth", x.sample(0, 2, 1), 103);
+    }
+
+    private static void samplesGoToTheirPictureAlone() {
+        ContentLibrary x = new ContentLibrary(40);
+        for (int i = 0; i < 8; i++) {
+            x.picture(2, 1);
+        }
+        for (int i = 7; i >= 0; i--) {
+            Check.due("first of " + i, x.samples(i, 1, 10 + i, 0), 1);
+        }
+        for (int i = 0; i < 8; i++) {
+            Check.due("second of " + i, x.samples(i, 1, 20 + i, 0), 2);
+            Check.due("keep", x.keep(i), i);
+            Check.due("first", x.sample(i, 0, 0), 10 + i);
+            Check.due("second", x.sample(i, 1, 0), 20 + i);
+        }
+    }
+
+    /** "as its rest by 256": samples are 0 .. 255, from below 0 and from 256 on. */
+    private static void samplesRunOverAt256() {
+        int[][] cases = {{0, 0}, {255, 255}, {256, 0}, {257, 1}, {511, 255}, {512, 0}, {-1, 255}, {-255, 1}, {-256, 0},
+            {-257, 255}};
+        for (int[] c : cases) {
+            ContentLibrary x = new ContentLibrary(2);
+            Check.keep(x, 1, 1, c[0], 0);
+            Check.due("v " + c[0], x.sample(0, 0, 0), c[1]);
+            ContentLibrary y = new ContentLibrary(2);
+            Check.keep(y, 2, 1, 0, c[0]);
+            Check.due("step " + c[0], y.sample(0, 1, 0), c[1]);
+        }
+    }
+
+    /** A sum that is no int has a rest by 256, too. */
+    private static void samplesRunOverAtInts() {
+        ContentLibrary x = new ContentLibrary(40);
+        Check.keep(x, 3, 1, Integer.MAX_VALUE, Integer.MAX_VALUE);
+        dueRow(x, 0, 255, 254, 253);
+        Check.keep(x, 3, 1, Integer.MIN_VALUE, Integer.MIN_VALUE);
+        dueRow(x, 1, 0, 0, 0);
+        Check.keep(x, 3, 1, Integer.MIN_VALUE, -1);
+        dueRow(x, 2, 0, 255, 254);
+        Check.keep(x, 3, 1, Integer.MAX_VALUE, 2);
+        dueRow(x, 3, 255, 1, 3);
+    }
+
+    private static void dueRow(ContentLibrary x, int number, int... wanted) {
+        for (int i = 0; i < wanted.length; i++) {
+            Check.due("sample " + i + " of " + number, x.sample(number, i, 0), wanted[i]);
+        }
     }
 }
