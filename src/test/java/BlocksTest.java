@@ -16,6 +16,7 @@ public final class BlocksTest {
         Check.finish();
     }
 
+    /** "A byte of a block changes by exclusive or with a mask .. the byte then." */
     private static void pokeTurnsOneByte() {
         ContentLibrary x = new ContentLibrary(3);
         Check.due("poke", x.poke(2, 63, 255), 255);
@@ -29,6 +30,7 @@ public final class BlocksTest {
         Check.dueTold(x, "poked", 3, 3, 0, 0, 0, 0, -1);
     }
 
+    /** No such block or byte comes before no such mask. */
     private static void pokeRefuses() {
         ContentLibrary x = new ContentLibrary(3);
         int[][] places = {{-1, 0}, {3, 0}, {0, -1}, {0, 64}, {Integer.MAX_VALUE, 0}, {Integer.MIN_VALUE, 0},
@@ -59,6 +61,7 @@ public final class BlocksTest {
         Check.dueThrow("byteAt(40, 0)", Check.INDEX, () -> x.byteAt(40, 0));
     }
 
+    /** "The first block that is neither all 0 nor GOOD" */
     private static void badAtTellsTheFirst() {
         ContentLibrary x = new ContentLibrary(6);
         Check.due("all 0", x.badAt(), ContentLibrary.NONE);
@@ -76,6 +79,7 @@ public final class BlocksTest {
         Check.due("all mended", x.badAt(), ContentLibrary.NONE);
     }
 
+    /** "GOOD if its kind is 1 .. 3, its number 0 .. 15, its bytes at most 56, and its sum is right" */
     private static void badAtKnowsGoodBlocks() {
         dueBad("kind 0", false, 0, 0, 0, 0);
         dueBad("kind 1", true, 1, 0, 0, 0);
@@ -107,6 +111,7 @@ public final class BlocksTest {
         Check.due(what, x.badAt(), good ? ContentLibrary.NONE : 3);
     }
 
+    /** "IllegalState: it is cut (of all but reopen(), byteAt(), poke(), badAt() and told())" */
     private static void allGoOnWhenCut() {
         ContentLibrary x = new ContentLibrary(6);
         Check.keep(x, 1, 1, 1, 1);
@@ -122,6 +127,7 @@ public final class BlocksTest {
         Check.due("still cut", x.told(5), 1);
     }
 
+    /** "there is no such .. block, byte": each block ends at its own 64th byte. */
     private static void theFirstAndTheLastByte() {
         for (int blocks : new int[] {1, 2, 40}) {
             ContentLibrary x = new ContentLibrary(blocks);
@@ -158,6 +164,7 @@ public final class BlocksTest {
         Check.due("the sample", x.sample(0, 0, 0), 5);
     }
 
+    /** "The first block": from block 0 to the last. */
     private static void badAtTheFirstAndTheLastBlock() {
         for (int blocks : new int[] {1, 40}) {
             ContentLibrary x = new ContentLibrary(blocks);
@@ -180,6 +187,7 @@ public final class BlocksTest {
         Check.due("good all the same", x.badAt(), ContentLibrary.NONE);
     }
 
+    /** "there is no such .. block, byte", of the least library. */
     private static void byteAtOfOneBlock() {
         ContentLibrary x = new ContentLibrary(1);
         Check.due("the first", x.byteAt(0, 0), 0);

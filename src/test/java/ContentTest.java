@@ -20,6 +20,7 @@ public final class ContentTest {
         Check.finish();
     }
 
+    /** The message, the digest, the print and the samples of each width and height, 1 .. 8. */
     private static void ofEverySize() {
         for (int width = 1; width <= 8; width++) {
             for (int height = 1; height <= 8; height++) {
@@ -75,6 +76,7 @@ public final class ContentTest {
         Check.due("four rows of eight", x.print(Check.keep(x, 8, 8, 0, 1)), 0xFFFFFFFF00000000L);
     }
 
+    /** A poke changes a byte "in the block alone": what has a number stays as it was. */
     private static void pokesChangeTheBlockAlone() {
         ContentLibrary x = new ContentLibrary(4);
         Check.keep(x, 2, 2, 10, 20);
@@ -162,6 +164,7 @@ public final class ContentTest {
         Check.due("the mean at first", printOf(1, 3, 2, 1, 3), 0xFFFF000000000000L);
     }
 
+    /** The least that is above: by one in all. */
     private static void byOneAbove() {
         Check.due("1 times 3 above 2", printOf(3, 1, 1, 1, 0), 0x3F3F3F3F3F3F3F3FL);
         Check.due("1 times 2 above 1", printOf(2, 1, 1, 0), 0x0F0F0F0F0F0F0F0FL);
@@ -186,7 +189,8 @@ public final class ContentTest {
         for (int side = 2; side <= 8; side++) {
             int[] samples = new int[side];
             samples[side - 1] = 9;
-            Check.due("the last of " + side + " columns", printOf(side, 1, samples), columns[side - 1] * 0x0101010101010101L);
+            long inEveryRow = columns[side - 1] * 0x0101010101010101L;
+            Check.due("the last of " + side + " columns", printOf(side, 1, samples), inEveryRow);
             long rows = 0;
             for (int y = 0; y < 8; y++) {
                 rows |= (columns[side - 1] >> y & 1) * 0xFFL << 8 * y;
@@ -195,6 +199,7 @@ public final class ContentTest {
         }
     }
 
+    /** There is no such sample before and behind those of a row or a column. */
     private static void theFirstAndTheLastSample() {
         int[][] sizes = {{1, 1}, {8, 1}, {1, 8}, {3, 5}, {8, 8}};
         for (int[] s : sizes) {
@@ -209,6 +214,7 @@ public final class ContentTest {
         }
     }
 
+    /** "0 .. 15" */
     private static void contentOfTheFirstAndTheLastNumber() {
         ContentLibrary x = new ContentLibrary(40);
         for (int i = 0; i < 16; i++) {

@@ -41,6 +41,7 @@ public final class DropSweepTest {
         Check.due("what was not dropped", x.sample(2, 0, 0), 2);
     }
 
+    /** The blocks of a number are wiped whatever stands in them, and also if that is all 0. */
     private static void dropWipesWhatWasPokedToo() {
         ContentLibrary x = new ContentLibrary(4);
         Check.keep(x, 1, 1, 1, 1);
@@ -52,6 +53,7 @@ public final class DropSweepTest {
         Check.dueSame("blocks", Arrays.toString(new int[256]), Arrays.toString(Check.allBytes(x)));
     }
 
+    /** "its kind becomes 0 first, then its other bytes": a fuse that ends at each of them. */
     private static void theMarkIsWipedFirst() {
         for (int bytes = 0; bytes <= 3 * 64; bytes++) {
             ContentLibrary x = new ContentLibrary(6);
@@ -93,6 +95,7 @@ public final class DropSweepTest {
         Check.dueSame("all swept", Arrays.toString(new int[512]), Arrays.toString(Check.allBytes(x)));
     }
 
+    /** "are wiped, in order": a fuse that ends at each byte. */
     private static void sweepGoesInOrder() {
         for (int bytes = 0; bytes <= 128; bytes++) {
             ContentLibrary x = new ContentLibrary(5);
@@ -124,6 +127,7 @@ public final class DropSweepTest {
         Check.dueRefusal(x, "sweep", Check.STATE, () -> x.sweep());
     }
 
+    /** A number that was dropped is no such number. */
     private static void aNumberIsDroppedOnce() {
         ContentLibrary x = new ContentLibrary(4);
         Check.keep(x, 1, 1, 1, 1);
@@ -131,6 +135,7 @@ public final class DropSweepTest {
         Check.dueRefusal(x, "drop again", Check.INDEX, () -> x.drop(0));
     }
 
+    /** "0 .. 15" */
     private static void theFirstAndTheLastNumber() {
         ContentLibrary x = new ContentLibrary(40);
         for (int i = 0; i < 16; i++) {
@@ -162,6 +167,7 @@ public final class DropSweepTest {
         }
     }
 
+    /** "those found last" are those that were there then. */
     private static void whatIsFoundStaysWhenDropped() {
         ContentLibrary x = new ContentLibrary(4);
         Check.keep(x, 1, 1, 1, 1);
@@ -173,6 +179,7 @@ public final class DropSweepTest {
         Check.due("found", x.told(4), 0);
     }
 
+    /** All is 0: none is wiped, and a fuse at its end does not cut. */
     private static void nothingToSweep() {
         ContentLibrary x = new ContentLibrary(40);
         x.fuse(0);
@@ -181,6 +188,7 @@ public final class DropSweepTest {
         Check.due("the fuse", x.told(6), 0);
     }
 
+    /** "Free blocks": those in use stay as they are. */
     private static void noBlockIsFree() {
         ContentLibrary x = new ContentLibrary(2);
         Check.keep(x, 1, 1, 1, 1);
@@ -190,6 +198,7 @@ public final class DropSweepTest {
         Check.due("the byte", x.byteAt(0, 63), 255);
     }
 
+    /** As many as there can be. */
     private static void allFortyAreSwept() {
         ContentLibrary x = new ContentLibrary(40);
         for (int block = 0; block < 40; block++) {

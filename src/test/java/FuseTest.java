@@ -22,6 +22,7 @@ public final class FuseTest {
         Check.finish();
     }
 
+    /** "what it was before (bytes to its end then; NONE)" */
     private static void fuseTellsWhatItWas() {
         ContentLibrary x = new ContentLibrary(10);
         Check.due("at first", x.fuse(500), ContentLibrary.NONE);
@@ -50,6 +51,7 @@ public final class FuseTest {
         Check.dueRefusal(x, "fuse(-2) when cut", Check.STATE, () -> x.fuse(-2));
     }
 
+    /** A call that writes no byte leaves the fuse as it is. */
     private static void onlyWritingBurns() {
         ContentLibrary x = new ContentLibrary(10);
         Check.keep(x, 1, 1, 1, 1);
@@ -63,6 +65,7 @@ public final class FuseTest {
         Check.due("told", x.told(6), 3);
     }
 
+    /** "CUT, if the fuse ended before its mark was written": with it is not before. */
     private static void aFuseThatEndsWithTheLastByte() {
         ContentLibrary x = new ContentLibrary(10);
         x.fuse(130);
@@ -85,6 +88,7 @@ public final class FuseTest {
         return x;
     }
 
+    /** "so 65 bytes a block": a fuse that ends at each byte of a wiping, two record blocks and a mark. */
     private static void aCutAtAnyByteOfKeeping() {
         int[] message = Check.message(8, 8, 9, 13);
         int[] first = Check.block(5, 1, 2, 0, 56, Arrays.copyOf(message, 56));
@@ -119,6 +123,7 @@ public final class FuseTest {
         }
     }
 
+    /** A number is there till the first byte of its mark is wiped. */
     private static void aCutAtAnyByteOfDropping() {
         for (int bytes = 0; bytes < 192; bytes++) {
             ContentLibrary x = prepared();
@@ -172,6 +177,7 @@ public final class FuseTest {
         Check.due("told", x.told(6), ContentLibrary.NONE);
     }
 
+    /** "bytes to its end then": one, and none. */
     private static void aFuseIsSetAnewBeforeItsEnd() {
         ContentLibrary x = new ContentLibrary(6);
         x.fuse(131);
@@ -210,6 +216,7 @@ public final class FuseTest {
         Check.dueTold(x, "opened", 12, 7, 2, 0, 0, 0, -1);
     }
 
+    /** A cut in free blocks leaves what was committed. */
     private static void aCutAtAnyByteOfSweeping() {
         for (int bytes = 0; bytes < 64; bytes++) {
             ContentLibrary x = prepared();

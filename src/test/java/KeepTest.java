@@ -38,6 +38,7 @@ public final class KeepTest {
         Check.dueBlock(x, "mark", 3, Check.block(3, 3, 1, 0, 1, 1));
     }
 
+    /** "56 to each block but the last": the longest message in one block has 51 bytes, the shortest in two has 58. */
     private static void aLongRecordHasTwoBlocks() {
         int[][] sizes = {{1, 1, 1}, {6, 8, 1}, {7, 7, 1}, {7, 8, 2}, {8, 7, 2}, {8, 8, 2}};
         for (int[] s : sizes) {
@@ -56,6 +57,7 @@ public final class KeepTest {
         }
     }
 
+    /** "KEEPING a picture whose digest is there already gives the number that this one has" */
     private static void eachDigestOnce() {
         ContentLibrary x = new ContentLibrary(40);
         Check.keep(x, 2, 2, 1, 1);
@@ -87,6 +89,7 @@ public final class KeepTest {
         Check.due("all open again", x.reopen(), 4);
     }
 
+    /** "the message's bytes are its width, its height, its samples" */
     private static void sizesTellPicturesApart() {
         ContentLibrary x = new ContentLibrary(40);
         Check.due("2 by 3", Check.keep(x, 2, 3, 0, 0), 0);
@@ -95,6 +98,7 @@ public final class KeepTest {
         Check.due("1 by 1 of 0", Check.keep(x, 1, 1, 0, 0), 3);
     }
 
+    /** "whose byte for the number .. is that one, whatever else is in them": free ones alone. */
     private static void staleBlocksOfTheNumberAreWiped() {
         ContentLibrary x = new ContentLibrary(12);
         Check.keep(x, 1, 1, 5, 0);
@@ -129,6 +133,7 @@ public final class KeepTest {
         Check.due("keep of one whole", x.keep(0), 0);
     }
 
+    /** "or not so many blocks free (it stays then)" */
     private static void noRoomLeavesThePicture() {
         ContentLibrary x = new ContentLibrary(4);
         Check.keep(x, 1, 1, 0, 0);
@@ -146,6 +151,7 @@ public final class KeepTest {
         sixteenAreTheMost();
     }
 
+    /** "there are sixteen .. (it stays then)" */
     private static void sixteenAreTheMost() {
         ContentLibrary x = new ContentLibrary(40);
         for (int i = 0; i < 16; i++) {
@@ -158,6 +164,7 @@ public final class KeepTest {
         Check.due("it stayed", x.keep(more), 11);
     }
 
+    /** "CUT, if the fuse ended before its mark was written": a byte too few. */
     private static void nothingWhenCut() {
         ContentLibrary x = new ContentLibrary(5);
         x.fuse(129);

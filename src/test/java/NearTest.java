@@ -43,6 +43,7 @@ public final class NearTest {
         }
     }
 
+    /** "they are found then, by how many bits, then by numbers" */
     private static void byBitsThenByNumbers() {
         ContentLibrary x = libraryOf(30, 10, 5, 15, 20, 9, 11);
         int picture = withBits(x, 10);
@@ -54,6 +55,7 @@ public final class NearTest {
         Check.due("the picture stays", x.told(3), 1);
     }
 
+    /** "in at most so many bits": each bound just at and just below what differs. */
     private static void theBoundCounts() {
         ContentLibrary x = libraryOf(1, 2, 4, 63);
         int picture = withBits(x, 1);
@@ -71,6 +73,7 @@ public final class NearTest {
         dueFound(halves, "all bits", 0, 64);
     }
 
+    /** "Of those found last": till the next near that is not refused. */
     private static void whatWasFoundStays() {
         ContentLibrary x = libraryOf(1, 2, 3);
         int picture = withBits(x, 2);
@@ -128,6 +131,7 @@ public final class NearTest {
         Check.dueRefusal(x, "found of nothing", Check.STATE, () -> x.found(99, 99));
     }
 
+    /** Before a first near nothing was found. */
     private static void noneIsFoundAtFirst() {
         ContentLibrary x = libraryOf(1, 2);
         Check.due("told", x.told(4), 0);
@@ -135,6 +139,7 @@ public final class NearTest {
         Check.dueThrow("the bits at 0", Check.INDEX, () -> x.found(0, 1));
     }
 
+    /** No number is there, so none is near. */
     private static void noneIsFoundOfNone() {
         ContentLibrary x = new ContentLibrary(5);
         Check.due("near", x.near(withBits(x, 5), 64), 0);
@@ -172,12 +177,14 @@ public final class NearTest {
         Check.due("found by 64", x.told(4), 16);
     }
 
+    /** 0 bits differ. */
     private static void aPictureThatIsThereIsNearestToItself() {
         ContentLibrary x = libraryOf(7, 6, 5);
         Check.due("near", x.near(withBits(x, 5), 0), 1);
         dueFound(x, "itself", 2, 0);
     }
 
+    /** Those found last may be none. */
     private static void noneFoundTakesThePlaceOfSome() {
         ContentLibrary x = libraryOf(7, 6, 5);
         Check.due("some", x.near(withBits(x, 5), 64), 3);

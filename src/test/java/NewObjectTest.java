@@ -18,6 +18,7 @@ public final class NewObjectTest {
         Check.finish();
     }
 
+    /** "1 .. 40 (another number counts as the nearest of these)" */
     private static void blocksCountAsTheNearest() {
         int[][] cases = {{Integer.MIN_VALUE, 1}, {-1, 1}, {0, 1}, {1, 1}, {2, 2}, {39, 39}, {40, 40}, {41, 40},
             {Integer.MAX_VALUE, 40}};
@@ -29,6 +30,7 @@ public final class NewObjectTest {
         }
     }
 
+    /** "all their bytes 0: no picture is there or being made" */
     private static void aNewObjectIsEmpty() {
         ContentLibrary x = new ContentLibrary(40);
         Check.due("bytes that are not 0", Arrays.stream(Check.allBytes(x)).filter(b -> b != 0).count(), 0);
@@ -61,6 +63,7 @@ public final class NewObjectTest {
         Check.dueTold(x, "reopened", 10, 6, 2, 0, 0, 0, -1);
     }
 
+    /** "(1 to 4 are 0 when it is cut.)" */
     private static void toldOfACutLibrary() {
         ContentLibrary x = new ContentLibrary(10);
         Check.keep(x, 2, 2, 1, 1);
@@ -73,6 +76,7 @@ public final class NewObjectTest {
         Check.dueTold(x, "opened behind the cut", 10, 8, 1, 0, 0, 0, -1, -1);
     }
 
+    /** "NONE for another what" */
     private static void otherWhatsAreNone() {
         ContentLibrary x = new ContentLibrary(3);
         for (int what : new int[] {Integer.MIN_VALUE, -2, -1, 7, 8, Integer.MAX_VALUE}) {

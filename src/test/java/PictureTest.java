@@ -23,6 +23,7 @@ public final class PictureTest {
         Check.finish();
     }
 
+    /** "at the least number that is free" */
     private static void numbersAreTheLeastFree() {
         ContentLibrary x = new ContentLibrary(40);
         for (int i = 0; i < 8; i++) {
@@ -35,6 +36,7 @@ public final class PictureTest {
         Check.due("a new one has no samples", x.samples(2, 1, 0, 0), 1);
     }
 
+    /** "IllegalArgument: its sizes." */
     private static void sizesAreOneToEight() {
         ContentLibrary x = new ContentLibrary(5);
         for (int side : new int[] {Integer.MIN_VALUE, -1, 0, 9, 256, Integer.MAX_VALUE}) {
@@ -48,6 +50,7 @@ public final class PictureTest {
         }
     }
 
+    /** "UnsupportedOperation: there are eight." */
     private static void eightAreTheMost() {
         ContentLibrary x = new ContentLibrary(5);
         for (int i = 0; i < 8; i++) {
@@ -70,6 +73,7 @@ public final class PictureTest {
         }
     }
 
+    /** "n or as many as it wants": as many as an int can say, and then none. */
     private static void samplesStopAtWhole() {
         ContentLibrary x = new ContentLibrary(5);
         x.picture(2, 2);
@@ -94,6 +98,7 @@ public final class PictureTest {
         }
     }
 
+    /** "IllegalArgument: n is below 1." */
     private static void samplesRefuse() {
         ContentLibrary x = new ContentLibrary(5);
         x.picture(2, 2);
@@ -147,6 +152,7 @@ public final class PictureTest {
         Check.due("the least that is free", x.picture(1, 1), 0);
     }
 
+    /** "A call that throws changes nothing." */
     private static void aRefusedPictureTakesNoNumber() {
         ContentLibrary x = new ContentLibrary(4);
         Check.dueThrow("no width", Check.ARGUMENT, () -> x.picture(0, 8));
@@ -155,6 +161,7 @@ public final class PictureTest {
         Check.due("the first", x.picture(8, 8), 0);
     }
 
+    /** "pictures being made .. go" */
     private static void picturesGoWhenReopened() {
         ContentLibrary x = new ContentLibrary(4);
         for (int i = 0; i < 8; i++) {
@@ -166,6 +173,7 @@ public final class PictureTest {
         Check.due("it has no samples", x.samples(0, 1, 0, 0), 1);
     }
 
+    /** n is 1, the least. */
     private static void aSampleAtATime() {
         ContentLibrary x = new ContentLibrary(4);
         x.picture(8, 8);
@@ -188,6 +196,7 @@ public final class PictureTest {
         Check.due("kept", x.keep(0), 0);
     }
 
+    /** "as many as it wants": the one too many does not come. */
     private static void oneMoreThanItWants() {
         ContentLibrary x = new ContentLibrary(4);
         x.picture(3, 2);
@@ -196,6 +205,7 @@ public final class PictureTest {
         Check.due("sample", x.sample(0, 2, 1), 6);
     }
 
+    /** "as many as it wants": of a picture that has some. */
     private static void allThatIsLeft() {
         ContentLibrary x = new ContentLibrary(4);
         x.picture(3, 2);
@@ -206,6 +216,7 @@ public final class PictureTest {
         Check.due("the sixth", x.sample(0, 2, 1), 103);
     }
 
+    /** "0 .. 7": of eight pictures each has its own. */
     private static void samplesGoToTheirPictureAlone() {
         ContentLibrary x = new ContentLibrary(40);
         for (int i = 0; i < 8; i++) {
