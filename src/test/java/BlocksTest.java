@@ -18,12 +18,12 @@ public final class BlocksTest {
 
     /** "A byte of a block changes by exclusive or with a mask .. the byte then." */
     private static void pokeTurnsOneByte() {
-        ContentLibrary x = new ContentLibrary(3);
+        Library x = new Library(3);
         Check.due("poke", x.poke(2, 63, 255), 255);
         Check.due("poke again", x.poke(2, 63, 15), 240);
         Check.due("poke with 0", x.poke(2, 63, 0), 240);
         Check.due("poke", x.poke(0, 0, 128), 128);
-        int[] bytes = Check.allBytes(x);
+        int[] bytes = Look.bytes(x);
         for (int i = 0; i < bytes.length; i++) {
             Check.due("byte " + i, bytes[i], i == 0 ? 128 : i == 2 * 64 + 63 ? 240 : 0);
         }
@@ -32,7 +32,7 @@ public final class BlocksTest {
 
     /** No such block or byte comes before no such mask. */
     private static void pokeRefuses() {
-        ContentLibrary x = new ContentLibrary(3);
+        Library x = new Library(3);
         int[][] places = {{-1, 0}, {3, 0}, {0, -1}, {0, 64}, {Integer.MAX_VALUE, 0}, {Integer.MIN_VALUE, 0},
             {0, Integer.MAX_VALUE}, {0, Integer.MIN_VALUE}, {1 << 26, 0}, {-1, 64}, {1, -64}};
         for (int[] p : places) {
@@ -46,24 +46,25 @@ public final class BlocksTest {
         }
     }
 
+    /** "A byte of a block.": each byte of each block is its own. */
     private static void byteAtTellsAndRefuses() {
-        ContentLibrary x = new ContentLibrary(40);
-        for (int block = 0; block < 40; block++) {
+        for (int own = 0; own < 40; own++) {
+            Library x = new Library(40);
             for (int i = 0; i < 64; i++) {
-                x.poke(block, i, (block * 7 + i * 5) % 256);
+                x.poke(own, i, (own * 7 + i * 5) % 256);
             }
-        }
-        for (int block = 0; block < 40; block++) {
-            for (int i = 0; i < 64; i++) {
-                Check.due("byteAt(" + block + ", " + i + ")", x.byteAt(block, i), (block * 7 + i * 5) % 256);
+            int[] bytes = Look.bytes(x);
+            for (int i = 0; i < bytes.length; i++) {
+                int wanted = i / 64 == own ? (own * 7 + i % 64 * 5) % 256 : 0;
+                Check.due("byteAt(" + i / 64 + ", " + i % 64 + ")", bytes[i], wanted);
             }
+            Check.dueThrow("byteAt(40, 0)", Check.INDEX, () -> x.byteAt(40, 0));
         }
-        Check.dueThrow("byteAt(40, 0)", Check.INDEX, () -> x.byteAt(40, 0));
     }
 
     /** "The first block that is neither all 0 nor GOOD" */
     private static void badAtTellsTheFirst() {
-        ContentLibrary x = new ContentLibrary(6);
+        Library x = new Library(6);
         Check.due("all 0", x.badAt(), ContentLibrary.NONE);
         Check.keep(x, 8, 8, 1, 1);
         Check.due("all good", x.badAt(), ContentLibrary.NONE);
@@ -93,7 +94,7 @@ public final class BlocksTest {
         dueBad("56 bytes", true, 1, 0, 0, 56);
         dueBad("57 bytes", false, 1, 0, 0, 57);
         for (int i = 0; i < 64; i++) {
-            ContentLibrary x = new ContentLibrary(6);
+            Library x = new Library(6);
             Check.forge(x, 4, Check.block(4, 1, 2, 3, 4, 5, 6, 7));
             Check.due("good", x.badAt(), ContentLibrary.NONE);
             x.poke(4, i, 64);
@@ -106,14 +107,14 @@ public final class BlocksTest {
     }
 
     private static void dueBad(String what, boolean good, int kind, int number, int which, int count) {
-        ContentLibrary x = new ContentLibrary(6);
+        Library x = new Library(6);
         Check.forge(x, 3, Check.block(3, kind, number, which, count, 1, 2, 3));
         Check.due(what, x.badAt(), good ? ContentLibrary.NONE : 3);
     }
 
     /** "IllegalState: it is cut (of all but reopen(), byteAt(), poke(), badAt() and told())" */
     private static void allGoOnWhenCut() {
-        ContentLibrary x = new ContentLibrary(6);
+        Library x = new Library(6);
         Check.keep(x, 1, 1, 1, 1);
         x.fuse(2);
         Check.keep(x, 1, 1, 2, 1);
@@ -130,7 +131,7 @@ public final class BlocksTest {
     /** "there is no such .. block, byte": each block ends at its own 64th byte. */
     private static void theFirstAndTheLastByte() {
         for (int blocks : new int[] {1, 2, 40}) {
-            ContentLibrary x = new ContentLibrary(blocks);
+            Library x = new Library(blocks);
             Check.due("the first", x.poke(0, 0, 17), 17);
             Check.due("the last", x.poke(blocks - 1, 63, 34), 34);
             Check.due("the first", x.byteAt(0, 0), 17);
@@ -145,7 +146,7 @@ public final class BlocksTest {
 
     /** "the mask is not 0 .. 255" */
     private static void theLeastAndTheMostMask() {
-        ContentLibrary x = new ContentLibrary(1);
+        Library x = new Library(1);
         Check.dueRefusal(x, "-1", Check.ARGUMENT, () -> x.poke(0, 9, -1));
         Check.due("0", x.poke(0, 9, 0), 0);
         Check.due("255", x.poke(0, 9, 255), 255);
@@ -156,7 +157,7 @@ public final class BlocksTest {
 
     /** A byte changes "in the block alone": no fuse burns, and nothing that is there changes. */
     private static void pokeIsNoWriting() {
-        ContentLibrary x = new ContentLibrary(4);
+        Library x = new Library(4);
         Check.keep(x, 2, 1, 5, 6);
         x.fuse(0);
         Check.due("poke", x.poke(0, 10, 255), 5 ^ 255);
@@ -167,7 +168,7 @@ public final class BlocksTest {
     /** "The first block": from block 0 to the last. */
     private static void badAtTheFirstAndTheLastBlock() {
         for (int blocks : new int[] {1, 40}) {
-            ContentLibrary x = new ContentLibrary(blocks);
+            Library x = new Library(blocks);
             x.poke(blocks - 1, 0, 1);
             Check.due("the last", x.badAt(), blocks - 1);
             x.poke(0, 63, 1);
@@ -177,7 +178,7 @@ public final class BlocksTest {
 
     /** "neither all 0 nor GOOD; NONE" */
     private static void noBadBlock() {
-        ContentLibrary x = new ContentLibrary(40);
+        Library x = new Library(40);
         Check.due("all 0", x.badAt(), ContentLibrary.NONE);
         for (int block = 0; block < 40; block++) {
             Check.forge(x, block, Check.block(block, 1 + block % 3, block % 16, block, block % 57, block));
@@ -189,7 +190,7 @@ public final class BlocksTest {
 
     /** "there is no such .. block, byte", of the least library. */
     private static void byteAtOfOneBlock() {
-        ContentLibrary x = new ContentLibrary(1);
+        Library x = new Library(1);
         Check.due("the first", x.byteAt(0, 0), 0);
         Check.due("the last", x.byteAt(0, 63), 0);
         Check.dueThrow("before", Check.INDEX, () -> x.byteAt(0, -1));

@@ -38,10 +38,10 @@ final class Check {
     }
 
     /** Like dueThrow, and the call changes nothing that can be seen. */
-    static void dueRefusal(ContentLibrary x, String call, Class<? extends RuntimeException> want, IntSupplier body) {
-        String before = seen(x);
+    static void dueRefusal(Calls x, String call, Class<? extends RuntimeException> want, IntSupplier body) {
+        String before = Look.seen(x);
         dueThrow(call, want, body);
-        dueSame(call + " leaves all as it was", before, seen(x));
+        dueSame(call + " leaves all as it was", before, Look.seen(x));
     }
 
     static void dueSame(String what, Object want, Object got) {
@@ -64,7 +64,7 @@ final class Check {
         return text.length() <= 120 ? text : "[from " + from + "] .." + text.substring(from, to) + "..";
     }
 
-    static void dueTold(ContentLibrary x, String when, int... wanted) {
+    static void dueTold(Calls x, String when, int... wanted) {
         for (int what = 0; what < wanted.length; what++) {
             due(when + ": told(" + what + ")", x.told(what), wanted[what]);
         }
@@ -86,22 +86,14 @@ final class Check {
         }
     }
 
-    static String seen(ContentLibrary x) {
-        return Look.seen(Calls.of(x));
-    }
-
-    static int[] allBytes(ContentLibrary x) {
-        return Look.bytes(Calls.of(x));
-    }
-
     /** A whole picture being made. */
-    static int make(ContentLibrary x, int width, int height, int v, int step) {
+    static int make(Calls x, int width, int height, int v, int step) {
         int picture = x.picture(width, height);
         x.samples(picture, width * height, v, step);
         return picture;
     }
 
-    static int keep(ContentLibrary x, int width, int height, int v, int step) {
+    static int keep(Calls x, int width, int height, int v, int step) {
         return x.keep(make(x, width, height, v, step));
     }
 
@@ -158,13 +150,16 @@ final class Check {
     }
 
     /** Makes a block's bytes those given, by pokes. */
-    static void forge(ContentLibrary x, int place, int[] block) {
+    static void forge(Calls x, int place, int[] block) {
         for (int i = 0; i < 64; i++) {
-            x.poke(place, i, x.byteAt(place, i) ^ block[i]);
+            int mask = x.byteAt(place, i) ^ block[i];
+            if (mask != 0) {
+                x.poke(place, i, mask);
+            }
         }
     }
 
-    static void dueBlock(ContentLibrary x, String when, int place, int[] wanted) {
-        dueSame(when + ": block " + place, Arrays.toString(wanted), Arrays.toString(Look.block(Calls.of(x), place)));
+    static void dueBlock(Calls x, String when, int place, int[] wanted) {
+        dueSame(when + ": block " + place, Arrays.toString(wanted), Arrays.toString(Look.block(x, place)));
     }
 }

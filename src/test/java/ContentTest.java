@@ -24,7 +24,7 @@ public final class ContentTest {
     private static void ofEverySize() {
         for (int width = 1; width <= 8; width++) {
             for (int height = 1; height <= 8; height++) {
-                ContentLibrary x = new ContentLibrary(6);
+                Library x = new Library(6);
                 Check.keep(x, 1, 1, 200, 0);
                 int number = Check.keep(x, width, height, 3 * width, 37 + 11 * height);
                 dueContent(x, number, Check.message(width, height, 3 * width, 37 + 11 * height));
@@ -34,7 +34,7 @@ public final class ContentTest {
         }
     }
 
-    private static void dueContent(ContentLibrary x, int number, int[] message) {
+    private static void dueContent(Library x, int number, int[] message) {
         int width = message[0];
         int height = message[1];
         String of = "of " + width + " by " + height + ": ";
@@ -59,7 +59,7 @@ public final class ContentTest {
     private static void aDigestThatIsKnown() {
         // The SHA-256 of the three bytes 1, 1, 0, as sha256sum tells it.
         int[] words = {0x9f44ac6a, 0xcb8a37b0, 0x0b615dc8, 0x9259d306, 0x035be82d, 0xee7db2b4, 0x72e4c483, 0x26195440};
-        ContentLibrary x = new ContentLibrary(2);
+        Library x = new Library(2);
         Check.keep(x, 1, 1, 0, 0);
         for (int i = 0; i < 8; i++) {
             Check.due("digest " + i, x.digest(0, i), words[i]);
@@ -67,7 +67,7 @@ public final class ContentTest {
     }
 
     private static void printsThatAreKnown() {
-        ContentLibrary x = new ContentLibrary(40);
+        Library x = new Library(40);
         Check.due("one colour is never above", x.print(Check.keep(x, 8, 8, 255, 0)), 0L);
         Check.due("one sample", x.print(Check.keep(x, 1, 1, 255, 0)), 0L);
         Check.due("right half", x.print(Check.keep(x, 2, 1, 0, 1)), 0xF0F0F0F0F0F0F0F0L);
@@ -78,7 +78,7 @@ public final class ContentTest {
 
     /** A poke changes a byte "in the block alone": what has a number stays as it was. */
     private static void pokesChangeTheBlockAlone() {
-        ContentLibrary x = new ContentLibrary(4);
+        Library x = new Library(4);
         Check.keep(x, 2, 2, 10, 20);
         for (int block = 0; block < 2; block++) {
             for (int i = 0; i < 64; i++) {
@@ -91,7 +91,7 @@ public final class ContentTest {
     }
 
     private static void whatIsRefused() {
-        ContentLibrary x = new ContentLibrary(6);
+        Library x = new Library(6);
         Check.keep(x, 3, 2, 1, 1);
         for (int number : new int[] {Integer.MIN_VALUE, -1, 1, 15, 16, Integer.MAX_VALUE}) {
             Check.dueRefusal(x, "digest(" + number + ", 0)", Check.INDEX, () -> x.digest(number, 0));
@@ -108,7 +108,7 @@ public final class ContentTest {
     }
 
     private static void nothingWhenCut() {
-        ContentLibrary x = new ContentLibrary(6);
+        Library x = new Library(6);
         Check.keep(x, 3, 2, 1, 1);
         x.fuse(0);
         Check.keep(x, 3, 2, 2, 1);
@@ -130,7 +130,7 @@ public final class ContentTest {
     }
 
     private static void dueDigest(int width, int height, int v, int step, int... words) {
-        ContentLibrary x = new ContentLibrary(3);
+        Library x = new Library(3);
         Check.keep(x, width, height, v, step);
         for (int i = 0; i < 8; i++) {
             Check.due("digest " + i + " of " + width + " by " + height, x.digest(0, i), words[i]);
@@ -139,7 +139,7 @@ public final class ContentTest {
 
     /** "eight words" */
     private static void theFirstAndTheLastWord() {
-        ContentLibrary x = new ContentLibrary(2);
+        Library x = new Library(2);
         Check.keep(x, 5, 5, 3, 9);
         Check.due("the first", x.digest(0, 0), 0x2926b118);
         Check.due("the last", x.digest(0, 7), 0xc6fd1118);
@@ -148,7 +148,7 @@ public final class ContentTest {
     }
 
     private static long printOf(int width, int height, int... samples) {
-        ContentLibrary x = new ContentLibrary(3);
+        Library x = new Library(3);
         x.picture(width, height);
         for (int sample : samples) {
             x.samples(0, 1, sample, 0);
@@ -203,7 +203,7 @@ public final class ContentTest {
     private static void theFirstAndTheLastSample() {
         int[][] sizes = {{1, 1}, {8, 1}, {1, 8}, {3, 5}, {8, 8}};
         for (int[] s : sizes) {
-            ContentLibrary x = new ContentLibrary(3);
+            Library x = new Library(3);
             Check.keep(x, s[0], s[1], 100, 1);
             Check.due("the first", x.sample(0, 0, 0), 100);
             Check.due("the last", x.sample(0, s[0] - 1, s[1] - 1), 99 + s[0] * s[1]);
@@ -216,7 +216,7 @@ public final class ContentTest {
 
     /** "0 .. 15" */
     private static void contentOfTheFirstAndTheLastNumber() {
-        ContentLibrary x = new ContentLibrary(40);
+        Library x = new Library(40);
         for (int i = 0; i < 16; i++) {
             Check.keep(x, 2, 1, i, 1);
         }

@@ -35,7 +35,6 @@ public final class FaceTest {
                 method("int told(int)")));
         Check.dueSame("the face", wanted, face());
         Check.due("public and final", ContentLibrary.class.getModifiers(), Modifier.PUBLIC | Modifier.FINAL);
-        privateNamesAreTheirOwn();
         Check.finish();
     }
 
@@ -65,15 +64,5 @@ public final class FaceTest {
 
     private static String names(Class<?>[] types, String between) {
         return Arrays.stream(types).map(Class::getSimpleName).collect(Collectors.joining(between));
-    }
-
-    private static void privateNamesAreTheirOwn() {
-        Set<String> open = new TreeSet<>();
-        Set<String> own = new TreeSet<>();
-        for (Method m : ContentLibrary.class.getDeclaredMethods()) {
-            (Modifier.isPublic(m.getModifiers()) ? open : own).add(m.getName());
-        }
-        own.retainAll(open);
-        Check.due("private methods with a public one's name", own.size(), 0);
     }
 }

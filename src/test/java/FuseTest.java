@@ -24,7 +24,7 @@ public final class FuseTest {
 
     /** "what it was before (bytes to its end then; NONE)" */
     private static void fuseTellsWhatItWas() {
-        ContentLibrary x = new ContentLibrary(10);
+        Library x = new Library(10);
         Check.due("at first", x.fuse(500), ContentLibrary.NONE);
         Check.due("told", x.told(6), 500);
         Check.keep(x, 1, 1, 1, 1);
@@ -40,7 +40,7 @@ public final class FuseTest {
     }
 
     private static void fuseRefuses() {
-        ContentLibrary x = new ContentLibrary(10);
+        Library x = new Library(10);
         x.fuse(77);
         Check.dueRefusal(x, "fuse(-2)", Check.ARGUMENT, () -> x.fuse(-2));
         Check.dueRefusal(x, "fuse(least)", Check.ARGUMENT, () -> x.fuse(Integer.MIN_VALUE));
@@ -53,7 +53,7 @@ public final class FuseTest {
 
     /** A call that writes no byte leaves the fuse as it is. */
     private static void onlyWritingBurns() {
-        ContentLibrary x = new ContentLibrary(10);
+        Library x = new Library(10);
         Check.keep(x, 1, 1, 1, 1);
         x.fuse(3);
         x.poke(5, 5, 5);
@@ -67,7 +67,7 @@ public final class FuseTest {
 
     /** "CUT, if the fuse ended before its mark was written": with it is not before. */
     private static void aFuseThatEndsWithTheLastByte() {
-        ContentLibrary x = new ContentLibrary(10);
+        Library x = new Library(10);
         x.fuse(130);
         Check.due("keep", Check.keep(x, 1, 1, 1, 1), 0);
         Check.dueTold(x, "ended", 10, 8, 1, 0, 0, 0, 0);
@@ -77,8 +77,8 @@ public final class FuseTest {
     }
 
     /** Two are there, and a block of old bytes with the number that is to come. */
-    private static ContentLibrary prepared() {
-        ContentLibrary x = new ContentLibrary(12);
+    private static Library prepared() {
+        Library x = new Library(12);
         Check.keep(x, 2, 2, 1, 1);
         Check.keep(x, 8, 7, 1, 3);
         for (int i = 0; i < 64; i++) {
@@ -96,8 +96,8 @@ public final class FuseTest {
         int[] mark = Check.block(7, 3, 2, 0, 1, 2);
         int[][] written = {first, further, mark};
         for (int bytes = 0; bytes <= KEEPING; bytes++) {
-            ContentLibrary x = prepared();
-            int[] wanted = Check.allBytes(x);
+            Library x = prepared();
+            int[] wanted = Look.bytes(x);
             for (int i = 0; i < bytes; i++) {
                 if (i < 64) {
                     wanted[9 * 64 + (i == 0 ? 4 : i <= 4 ? i - 1 : i)] = 0;
@@ -113,7 +113,7 @@ public final class FuseTest {
             Check.due("keep with a fuse of " + bytes, Check.keep(x, 8, 8, 9, 13), cut ? ContentLibrary.CUT : 2);
             Check.due("cut", x.told(5), cut ? 1 : 0);
             Check.due("fuse", x.told(6), 0);
-            Check.dueSame("after " + bytes, Arrays.toString(wanted), Arrays.toString(Check.allBytes(x)));
+            Check.dueSame("after " + bytes, Arrays.toString(wanted), Arrays.toString(Look.bytes(x)));
             Check.due("opened", x.reopen(), cut ? 2 : 3);
             Check.due("first", x.sample(0, 1, 1), 4);
             Check.due("second", x.sample(1, 7, 6), 166);
@@ -126,7 +126,7 @@ public final class FuseTest {
     /** A number is there till the first byte of its mark is wiped. */
     private static void aCutAtAnyByteOfDropping() {
         for (int bytes = 0; bytes < 192; bytes++) {
-            ContentLibrary x = prepared();
+            Library x = prepared();
             x.fuse(bytes);
             Check.due("drop with a fuse of " + bytes, x.drop(1), ContentLibrary.CUT);
             Check.due("opened", x.reopen(), bytes == 0 ? 2 : 1);
@@ -138,7 +138,7 @@ public final class FuseTest {
 
     /** "IllegalArgument: it is below NONE." */
     private static void theLeastAndTheMostFuse() {
-        ContentLibrary x = new ContentLibrary(4);
+        Library x = new Library(4);
         Check.dueRefusal(x, "below NONE", Check.ARGUMENT, () -> x.fuse(ContentLibrary.NONE - 1));
         Check.due("NONE", x.fuse(ContentLibrary.NONE), ContentLibrary.NONE);
         Check.due("the most", x.fuse(Integer.MAX_VALUE), ContentLibrary.NONE);
@@ -148,7 +148,7 @@ public final class FuseTest {
 
     /** "after so many bytes more the next one is not written" */
     private static void aFuseOfOneByte() {
-        ContentLibrary x = new ContentLibrary(4);
+        Library x = new Library(4);
         x.poke(0, 4, 77);
         x.poke(0, 5, 88);
         x.fuse(1);
@@ -158,7 +158,7 @@ public final class FuseTest {
     }
 
     private static void aFuseOf0Bytes() {
-        ContentLibrary x = new ContentLibrary(4);
+        Library x = new Library(4);
         x.poke(0, 4, 77);
         x.fuse(0);
         Check.due("not cut yet", x.told(5), 0);
@@ -169,7 +169,7 @@ public final class FuseTest {
 
     /** "NONE: never" */
     private static void noneTakesAFuseAway() {
-        ContentLibrary x = new ContentLibrary(4);
+        Library x = new Library(4);
         x.fuse(0);
         Check.due("what it was", x.fuse(ContentLibrary.NONE), 0);
         Check.due("keep", Check.keep(x, 1, 1, 1, 1), 0);
@@ -179,7 +179,7 @@ public final class FuseTest {
 
     /** "bytes to its end then": one, and none. */
     private static void aFuseIsSetAnewBeforeItsEnd() {
-        ContentLibrary x = new ContentLibrary(6);
+        Library x = new Library(6);
         x.fuse(131);
         Check.keep(x, 1, 1, 1, 1);
         Check.due("a byte is left", x.fuse(130), 1);
@@ -190,7 +190,7 @@ public final class FuseTest {
 
     /** Two calls that write use up one fuse. */
     private static void aFuseGoesOnOverCalls() {
-        ContentLibrary x = new ContentLibrary(6);
+        Library x = new Library(6);
         x.fuse(130 + 128 + 64);
         Check.due("keep", Check.keep(x, 1, 1, 1, 1), 0);
         Check.due("told", x.told(6), 192);
@@ -204,7 +204,7 @@ public final class FuseTest {
 
     /** "the library is CUT: nothing is there but the blocks" */
     private static void onlyTheBlocksAreThereWhenCut() {
-        ContentLibrary x = prepared();
+        Library x = prepared();
         int picture = Check.make(x, 3, 3, 1, 1);
         x.near(picture, 64);
         x.picture(8, 8);
@@ -219,7 +219,7 @@ public final class FuseTest {
     /** A cut in free blocks leaves what was committed. */
     private static void aCutAtAnyByteOfSweeping() {
         for (int bytes = 0; bytes < 64; bytes++) {
-            ContentLibrary x = prepared();
+            Library x = prepared();
             x.fuse(bytes);
             Check.due("sweep with a fuse of " + bytes, x.sweep(), ContentLibrary.CUT);
             Check.due("opened", x.reopen(), 2);

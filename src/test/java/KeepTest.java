@@ -28,7 +28,7 @@ public final class KeepTest {
     }
 
     private static void blocksStandAsTold() {
-        ContentLibrary x = new ContentLibrary(4);
+        Library x = new Library(4);
         Check.due("keep", Check.keep(x, 3, 2, 250, 3), 0);
         Check.dueBlock(x, "first", 0, Check.block(0, 1, 0, 0, 8, Check.message(3, 2, 250, 3)));
         Check.dueBlock(x, "mark", 1, Check.block(1, 3, 0, 0, 1, 1));
@@ -42,7 +42,7 @@ public final class KeepTest {
     private static void aLongRecordHasTwoBlocks() {
         int[][] sizes = {{1, 1, 1}, {6, 8, 1}, {7, 7, 1}, {7, 8, 2}, {8, 7, 2}, {8, 8, 2}};
         for (int[] s : sizes) {
-            ContentLibrary x = new ContentLibrary(5);
+            Library x = new Library(5);
             Check.keep(x, s[0], s[1], 3, 5);
             int[] message = Check.message(s[0], s[1], 3, 5);
             int inFirst = Math.min(56, message.length);
@@ -59,7 +59,7 @@ public final class KeepTest {
 
     /** "KEEPING a picture whose digest is there already gives the number that this one has" */
     private static void eachDigestOnce() {
-        ContentLibrary x = new ContentLibrary(40);
+        Library x = new Library(40);
         Check.keep(x, 2, 2, 1, 1);
         Check.keep(x, 2, 2, 2, 1);
         int again = Check.make(x, 2, 2, 1, 1);
@@ -73,7 +73,7 @@ public final class KeepTest {
     }
 
     private static void theLeastFreeNumberAndBlocks() {
-        ContentLibrary x = new ContentLibrary(40);
+        Library x = new Library(40);
         for (int i = 0; i < 4; i++) {
             Check.due("keep", Check.keep(x, 1, 1, i, 0), i);
         }
@@ -91,7 +91,7 @@ public final class KeepTest {
 
     /** "the message's bytes are its width, its height, its samples" */
     private static void sizesTellPicturesApart() {
-        ContentLibrary x = new ContentLibrary(40);
+        Library x = new Library(40);
         Check.due("2 by 3", Check.keep(x, 2, 3, 0, 0), 0);
         Check.due("3 by 2", Check.keep(x, 3, 2, 0, 0), 1);
         Check.due("6 by 1", Check.keep(x, 6, 1, 0, 0), 2);
@@ -100,7 +100,7 @@ public final class KeepTest {
 
     /** "whose byte for the number .. is that one, whatever else is in them": free ones alone. */
     private static void staleBlocksOfTheNumberAreWiped() {
-        ContentLibrary x = new ContentLibrary(12);
+        Library x = new Library(12);
         Check.keep(x, 1, 1, 5, 0);
         x.poke(7, 5, 1);
         x.poke(8, 5, 2);
@@ -121,7 +121,7 @@ public final class KeepTest {
     }
 
     private static void whatIsRefused() {
-        ContentLibrary x = new ContentLibrary(5);
+        Library x = new Library(5);
         x.picture(2, 2);
         Check.dueRefusal(x, "keep without samples", Check.ARGUMENT, () -> x.keep(0));
         x.samples(0, 3, 0, 1);
@@ -135,7 +135,7 @@ public final class KeepTest {
 
     /** "or not so many blocks free (it stays then)" */
     private static void noRoomLeavesThePicture() {
-        ContentLibrary x = new ContentLibrary(4);
+        Library x = new Library(4);
         Check.keep(x, 1, 1, 0, 0);
         int large = Check.make(x, 8, 8, 0, 1);
         Check.dueRefusal(x, "two blocks for three", Check.UNSUPPORTED, () -> x.keep(large));
@@ -153,7 +153,7 @@ public final class KeepTest {
 
     /** "there are sixteen .. (it stays then)" */
     private static void sixteenAreTheMost() {
-        ContentLibrary x = new ContentLibrary(40);
+        Library x = new Library(40);
         for (int i = 0; i < 16; i++) {
             Check.due("keep", Check.keep(x, 1, 1, i, 0), i);
         }
@@ -166,7 +166,7 @@ public final class KeepTest {
 
     /** "CUT, if the fuse ended before its mark was written": a byte too few. */
     private static void nothingWhenCut() {
-        ContentLibrary x = new ContentLibrary(5);
+        Library x = new Library(5);
         x.fuse(129);
         Check.due("the mark's kind is not written", Check.keep(x, 1, 1, 0, 0), ContentLibrary.CUT);
         Check.dueRefusal(x, "keep", Check.STATE, () -> x.keep(0));
@@ -177,7 +177,7 @@ public final class KeepTest {
     private static void wholeAtTheLastSample() {
         int[][] sizes = {{1, 1}, {1, 8}, {8, 1}, {7, 7}, {8, 8}};
         for (int[] s : sizes) {
-            ContentLibrary x = new ContentLibrary(3);
+            Library x = new Library(3);
             x.picture(s[0], s[1]);
             for (int i = 0; i < s[0] * s[1]; i++) {
                 Check.dueThrow("with " + i + " samples", Check.ARGUMENT, () -> x.keep(0));
@@ -192,12 +192,12 @@ public final class KeepTest {
         int[][] cases = {{1, 1, 2}, {7, 7, 2}, {6, 8, 2}, {8, 6, 2}, {7, 8, 3}, {8, 7, 3}, {8, 8, 3}};
         for (int[] c : cases) {
             for (int blocks = 1; blocks < c[2]; blocks++) {
-                ContentLibrary small = new ContentLibrary(blocks);
+                Library small = new Library(blocks);
                 int picture = Check.make(small, c[0], c[1], 1, 1);
                 Check.dueRefusal(small, "in " + blocks, Check.UNSUPPORTED, () -> small.keep(picture));
                 Check.due("it stays", small.samples(picture, 1, 0, 0), c[0] * c[1]);
             }
-            ContentLibrary x = new ContentLibrary(c[2]);
+            Library x = new Library(c[2]);
             Check.due("in " + c[2], Check.keep(x, c[0], c[1], 1, 1), 0);
             Check.due("all are used", x.told(1), 0);
         }
@@ -205,7 +205,7 @@ public final class KeepTest {
 
     /** "the least number that is free, 0 .. 15": sixteen in thirty-two blocks, and no more. */
     private static void everyBlockInUse() {
-        ContentLibrary x = new ContentLibrary(32);
+        Library x = new Library(32);
         for (int i = 0; i < 16; i++) {
             Check.due("free", x.told(1), 32 - 2 * i);
             Check.due("keep", Check.keep(x, 1, 1, i, 0), i);
@@ -217,7 +217,7 @@ public final class KeepTest {
 
     /** Thirteen records of two blocks leave one block of forty: too few for any. */
     private static void aBlockTooFewAtTheEnd() {
-        ContentLibrary x = new ContentLibrary(40);
+        Library x = new Library(40);
         for (int i = 0; i < 13; i++) {
             Check.due("keep", Check.keep(x, 8, 8, i, 1), i);
         }
@@ -232,7 +232,7 @@ public final class KeepTest {
 
     /** "it gets the least number that is free" */
     private static void aNumberThatIsFreeAgain() {
-        ContentLibrary x = new ContentLibrary(40);
+        Library x = new Library(40);
         for (int i = 0; i < 16; i++) {
             Check.keep(x, 1, 1, i, 0);
         }
@@ -246,27 +246,27 @@ public final class KeepTest {
     /** "are wiped (as in DROPPING), in order": three old blocks, and a fuse that ends in each. */
     private static void staleBlocksAreWipedInOrder() {
         for (int bytes = 0; bytes <= 3 * 64; bytes++) {
-            ContentLibrary x = new ContentLibrary(9);
+            Library x = new Library(9);
             int[] places = {2, 5, 8};
             for (int place : places) {
                 for (int i = 0; i < 64; i++) {
                     x.poke(place, i, i == 5 ? 0 : 100 + i);
                 }
             }
-            int[] wanted = Check.allBytes(x);
+            int[] wanted = Look.bytes(x);
             for (int i = 0; i < bytes; i++) {
                 int n = i % 64;
                 wanted[places[i / 64] * 64 + (n == 0 ? 4 : n <= 4 ? n - 1 : n)] = 0;
             }
             x.fuse(bytes);
             Check.due("keep with a fuse of " + bytes, Check.keep(x, 1, 1, 1, 0), ContentLibrary.CUT);
-            Check.dueSame("after " + bytes, Arrays.toString(wanted), Arrays.toString(Check.allBytes(x)));
+            Check.dueSame("after " + bytes, Arrays.toString(wanted), Arrays.toString(Look.bytes(x)));
         }
     }
 
     /** Old blocks with the number are wiped first, also where the record comes then: 64 bytes, then 65. */
     private static void staleBlocksThatAreWrittenOver() {
-        ContentLibrary x = new ContentLibrary(2);
+        Library x = new Library(2);
         Check.forge(x, 0, Check.block(0, 2, 0, 1, 56, 9, 9, 9));
         Check.forge(x, 1, Check.block(1, 3, 0, 0, 1, 2));
         x.fuse(2 * 64 + 2 * 65);
@@ -278,27 +278,24 @@ public final class KeepTest {
 
     /** "that are not all 0": a blank block has the number 0, and no byte of it is written. */
     private static void blankBlocksAreNotWiped() {
-        ContentLibrary x = new ContentLibrary(40);
+        Library x = new Library(40);
         x.fuse(130);
         Check.due("keep at 0", Check.keep(x, 1, 1, 1, 0), 0);
         Check.due("two blocks written, none wiped", x.told(6), 0);
-        ContentLibrary y = new ContentLibrary(40);
         for (int i = 0; i < 64; i++) {
-            if (i != 5) {
-                y.poke(39, i, 1);
-                y.fuse(64 + 130);
-                Check.due("keep at 0", Check.keep(y, 1, 1, 1, 0), 0);
-                Check.due("one wiped for byte " + i, y.told(6), 0);
-                Check.due("wiped", y.byteAt(39, i), 0);
-                y.fuse(ContentLibrary.NONE);
-                y.drop(0);
-            }
+            Library y = new Library(40);
+            boolean asked = i != 5;
+            y.poke(39, i, 1);
+            y.fuse(64 + 130);
+            Check.due("keep at 0", Check.keep(y, 1, 1, 1, 0), 0);
+            Check.due("wiped for byte " + i + ", but not with the number 1", y.told(6), asked ? 0 : 64);
+            Check.due("byte " + i, y.byteAt(39, i), asked ? 0 : 1);
         }
     }
 
     /** "Bytes that are not told are 0.", whatever stood there. */
     private static void untoldBytesAre0() {
-        ContentLibrary x = new ContentLibrary(3);
+        Library x = new Library(3);
         for (int i = 0; i < 3 * 64; i++) {
             x.poke(i / 64, i % 64, 255);
         }
@@ -312,18 +309,18 @@ public final class KeepTest {
 
     /** "(running over); it stands with the lowest byte first": sums worked out apart from this project's code. */
     private static void sumsThatAreKnown() {
-        ContentLibrary x = new ContentLibrary(40);
+        Library x = new Library(40);
         Check.keep(x, 1, 1, 0, 0);
         dueSum(x, 0, 0x9d, 0x17, 0xb5, 0x24);
         dueSum(x, 1, 0xd3, 0x25, 0xed, 0x85);
-        ContentLibrary y = new ContentLibrary(3);
+        Library y = new Library(3);
         Check.keep(y, 8, 8, 255, 0);
         dueSum(y, 0, 0x60, 0x5d, 0x60, 0x8e);
         dueSum(y, 1, 0xbe, 0x12, 0x4d, 0x07);
         dueSum(y, 2, 0x13, 0x4d, 0xa4, 0x34);
     }
 
-    private static void dueSum(ContentLibrary x, int block, int... bytes) {
+    private static void dueSum(Library x, int block, int... bytes) {
         for (int i = 0; i < 4; i++) {
             Check.due("byte " + i + " of the sum of block " + block, x.byteAt(block, i), bytes[i]);
         }
@@ -331,7 +328,7 @@ public final class KeepTest {
 
     /** "the first ones that are free, in rising order", also over what others have, to the last block. */
     private static void placesWithGapsRise() {
-        ContentLibrary x = new ContentLibrary(7);
+        Library x = new Library(7);
         for (int i = 0; i < 3; i++) {
             Check.keep(x, 1, 1, i, 0);
         }
@@ -345,7 +342,7 @@ public final class KeepTest {
 
     /** "UnsupportedOperation .. (it stays then)", also with a fuse at its end: no byte is to be written. */
     private static void aRefusedKeepIsNoCut() {
-        ContentLibrary x = new ContentLibrary(1);
+        Library x = new Library(1);
         int picture = Check.make(x, 1, 1, 1, 1);
         x.fuse(0);
         Check.dueRefusal(x, "no room", Check.UNSUPPORTED, () -> x.keep(picture));

@@ -1,4 +1,4 @@
-import java.util.Arrays;
+import java.util.function.ToLongFunction;
 
 /** Texts of what a library is, by which two of them are compared. */
 final class Look {
@@ -17,8 +17,8 @@ final class Look {
         }
         for (int k = 0; k <= x.told(4); k++) {
             int place = k;
-            text.append(Check.answer(x, c -> c.found(place, 0))).append('/');
-            text.append(Check.answer(x, c -> c.found(place, 1))).append(' ');
+            text.append(tried(x, c -> c.found(place, 0))).append('/');
+            text.append(tried(x, c -> c.found(place, 1))).append(' ');
         }
         return text.toString();
     }
@@ -46,14 +46,29 @@ final class Look {
         return text.append(seen(x)).toString();
     }
 
-    /** Which blocks a number has is seen when they are wiped. */
+    /** An answer, or what is thrown, of a call that is only to look. */
+    private static String tried(Calls x, ToLongFunction<Calls> body) {
+        x.looking(true);
+        String answer = Check.answer(x, body);
+        x.looking(false);
+        return answer;
+    }
+
+    /** Which blocks a number has is seen by the kinds of all blocks when they are wiped. */
     private static String dropped(Calls x, int number) {
         String answer = Check.answer(x, c -> c.drop(number));
-        return answer.startsWith("throws") ? "- " : answer + Arrays.hashCode(bytes(x)) + " ";
+        if (answer.startsWith("throws")) {
+            return "- ";
+        }
+        StringBuilder text = new StringBuilder(answer).append(':');
+        for (int block = 0; block < x.told(0); block++) {
+            text.append(x.byteAt(block, 4)).append(',');
+        }
+        return text.append(' ').toString();
     }
 
     private static String content(Calls x, int number) {
-        String print = Check.answer(x, c -> c.print(number));
+        String print = tried(x, c -> c.print(number));
         if (print.startsWith("throws")) {
             return print + " ";
         }
@@ -71,7 +86,7 @@ final class Look {
         StringBuilder text = new StringBuilder("/");
         for (int column = 0; column < 9; column++) {
             int at = column;
-            String sample = Check.answer(x, c -> c.sample(number, at, row));
+            String sample = tried(x, c -> c.sample(number, at, row));
             if (sample.startsWith("throws")) {
                 return text.toString();
             }
@@ -98,6 +113,10 @@ final class Look {
     }
 
     static int[] block(Calls x, int block) {
-        return Arrays.copyOfRange(bytes(x), 64 * block, 64 * block + 64);
+        int[] bytes = new int[64];
+        for (int i = 0; i < 64; i++) {
+            bytes[i] = x.byteAt(block, i);
+        }
+        return bytes;
     }
 }

@@ -229,9 +229,16 @@ final class Model implements Calls {
     }
 
     public int told(int what) {
-        int[] told = {blocks.length, cut ? 0 : free().size(), entries.size(), drafts.size(), found.size(), cut ? 1 : 0,
-            fuse};
-        return what < 0 || what > 6 ? -1 : told[what];
+        return switch (what) {
+            case 0 -> blocks.length;
+            case 1 -> cut ? 0 : free().size();
+            case 2 -> entries.size();
+            case 3 -> drafts.size();
+            case 4 -> found.size();
+            case 5 -> cut ? 1 : 0;
+            case 6 -> fuse;
+            default -> -1;
+        };
     }
 
     private Entry read(int number) {

@@ -4,19 +4,20 @@ import java.util.function.ToLongFunction;
 /** Long mixed runs of calls, the same on the class and on a plain model, from seeds that never change. */
 public final class ModelTest {
     private static final int RUNS = 1500;
-    private static final int STEPS = 120;
+    /** A step makes some seventy calls at most: an object has room for them, and for looking, behind so many. */
+    private static final int MOST_CALLS = 400;
     private static final int[] BLOCKS = {0, 1, 2, 3, 4, 5, 6, 8, 12, 20, 39, 40, 41};
 
     private final Random random;
-    private final Calls x;
-    private final Calls model;
+    private final Library x;
+    private final Model model;
     private final int blocks;
     private String call = "";
 
     private ModelTest(int seed) {
         random = new Random(seed);
         int made = BLOCKS[random.nextInt(BLOCKS.length)];
-        x = Calls.of(new ContentLibrary(made));
+        x = new Library(made);
         model = new Model(made);
         blocks = x.told(0);
     }
@@ -24,7 +25,7 @@ public final class ModelTest {
     public static void main(String[] args) {
         for (int seed = 0; seed < RUNS; seed++) {
             ModelTest run = new ModelTest(seed);
-            for (int i = 0; i < STEPS; i++) {
+            for (int i = 0; run.x.runLength() < MOST_CALLS; i++) {
                 run.step();
                 run.look("run " + seed + ", step " + i + ", behind " + run.call);
             }
@@ -70,7 +71,7 @@ public final class ModelTest {
         int w = 1 + random.nextInt(8) - (random.nextInt(30) == 0 ? 1 : 0);
         int h = random.nextInt(4) == 0 ? 8 : 1 + random.nextInt(3);
         both("picture(" + w + ", " + h + ")", c -> c.picture(w, h));
-        int p = random.nextInt(3) == 0 ? random.nextInt(3) : x.told(3) - 1;
+        int p = random.nextInt(3) == 0 ? random.nextInt(3) : model.told(3) - 1;
         int n = random.nextInt(20) == 0 ? random.nextInt(5) - 1 : 64;
         int v = random.nextInt(3);
         int s = random.nextInt(3) * 50;
@@ -93,7 +94,7 @@ public final class ModelTest {
     private void forgeSome() {
         int place = random.nextInt(blocks);
         int from = random.nextInt(blocks);
-        int[] block = Look.block(x, from);
+        int[] block = Look.block(model, from);
         if (random.nextInt(3) == 0) {
             block[5] = random.nextInt(3);
         }
@@ -103,8 +104,10 @@ public final class ModelTest {
         Check.seal(place, block);
         for (int i = 0; i < 64; i++) {
             int at = i;
-            int mask = x.byteAt(place, i) ^ block[i];
-            both("forging", c -> c.poke(place, at, mask));
+            int mask = model.byteAt(place, i) ^ block[i];
+            if (mask != 0) {
+                both("forging", c -> c.poke(place, at, mask));
+            }
         }
         if (random.nextInt(2) == 0) {
             both("reopen()", c -> c.reopen());
@@ -123,6 +126,7 @@ public final class ModelTest {
     }
 
     private void look(String when) {
+        x.looking(true);
         for (int what = 0; what < 7; what++) {
             Check.due(when + ": told(" + what + ")", x.told(what), model.told(what));
         }
@@ -137,6 +141,7 @@ public final class ModelTest {
         int block = random.nextInt(blocks);
         int at = random.nextInt(64);
         both("byteAt(" + block + ", " + at + ")", c -> c.byteAt(block, at));
+        x.looking(false);
     }
 
     private void lookAtBytes(String when) {

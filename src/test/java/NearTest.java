@@ -18,7 +18,7 @@ public final class NearTest {
     }
 
     /** A picture of 8 by 8 whose print has the first so many bits. */
-    private static int withBits(ContentLibrary x, int bits) {
+    private static int withBits(Library x, int bits) {
         int picture = x.picture(8, 8);
         if (bits > 0) {
             x.samples(picture, bits, 200, 0);
@@ -27,15 +27,15 @@ public final class NearTest {
         return picture;
     }
 
-    private static ContentLibrary libraryOf(int... bits) {
-        ContentLibrary x = new ContentLibrary(40);
+    private static Library libraryOf(int... bits) {
+        Library x = new Library(40);
         for (int b : bits) {
             x.keep(withBits(x, b));
         }
         return x;
     }
 
-    private static void dueFound(ContentLibrary x, String when, int... wanted) {
+    private static void dueFound(Library x, String when, int... wanted) {
         Check.due(when + ": how many", x.told(4), wanted.length / 2);
         for (int k = 0; k < wanted.length / 2; k++) {
             Check.due(when + ": number at " + k, x.found(k, 0), wanted[2 * k]);
@@ -45,7 +45,7 @@ public final class NearTest {
 
     /** "they are found then, by how many bits, then by numbers" */
     private static void byBitsThenByNumbers() {
-        ContentLibrary x = libraryOf(30, 10, 5, 15, 20, 9, 11);
+        Library x = libraryOf(30, 10, 5, 15, 20, 9, 11);
         int picture = withBits(x, 10);
         Check.due("near", x.near(picture, 64), 7);
         dueFound(x, "all", 1, 0, 5, 1, 6, 1, 2, 5, 3, 5, 4, 10, 0, 20);
@@ -57,16 +57,16 @@ public final class NearTest {
 
     /** "in at most so many bits": each bound just at and just below what differs. */
     private static void theBoundCounts() {
-        ContentLibrary x = libraryOf(1, 2, 4, 63);
+        Library x = libraryOf(1, 2, 4, 63);
         int picture = withBits(x, 1);
         int[][] cases = {{0, 1}, {1, 2}, {2, 2}, {3, 3}, {61, 3}, {62, 4}, {63, 4}, {64, 4}};
         for (int[] c : cases) {
             Check.due("near with bound " + c[0], x.near(picture, c[0]), c[1]);
             Check.due("told(4)", x.told(4), c[1]);
         }
-        ContentLibrary empty = new ContentLibrary(4);
+        Library empty = new Library(4);
         Check.due("near of none", empty.near(withBits(empty, 3), 64), 0);
-        ContentLibrary halves = new ContentLibrary(8);
+        Library halves = new Library(8);
         Check.keep(halves, 2, 1, 0, 1);
         Check.due("all bits differ, bound 63", halves.near(Check.make(halves, 2, 1, 1, -1), 63), 0);
         Check.due("all bits differ, bound 64", halves.near(0, 64), 1);
@@ -75,7 +75,7 @@ public final class NearTest {
 
     /** "Of those found last": till the next near that is not refused. */
     private static void whatWasFoundStays() {
-        ContentLibrary x = libraryOf(1, 2, 3);
+        Library x = libraryOf(1, 2, 3);
         int picture = withBits(x, 2);
         x.near(picture, 1);
         x.drop(1);
@@ -94,7 +94,7 @@ public final class NearTest {
     }
 
     private static void nearRefuses() {
-        ContentLibrary x = libraryOf(1, 2, 3);
+        Library x = libraryOf(1, 2, 3);
         int picture = withBits(x, 2);
         int half = x.picture(2, 2);
         x.near(picture, 64);
@@ -109,7 +109,7 @@ public final class NearTest {
     }
 
     private static void foundRefuses() {
-        ContentLibrary x = libraryOf(1, 2, 3);
+        Library x = libraryOf(1, 2, 3);
         x.near(withBits(x, 2), 64);
         for (int k : new int[] {Integer.MIN_VALUE, -1, 3, 16, Integer.MAX_VALUE}) {
             Check.dueRefusal(x, "found(" + k + ", 0)", Check.INDEX, () -> x.found(k, 0));
@@ -121,7 +121,7 @@ public final class NearTest {
     }
 
     private static void nothingWhenCut() {
-        ContentLibrary x = libraryOf(1, 2, 3);
+        Library x = libraryOf(1, 2, 3);
         int picture = withBits(x, 2);
         x.near(picture, 64);
         x.fuse(0);
@@ -133,7 +133,7 @@ public final class NearTest {
 
     /** Before a first near nothing was found. */
     private static void noneIsFoundAtFirst() {
-        ContentLibrary x = libraryOf(1, 2);
+        Library x = libraryOf(1, 2);
         Check.due("told", x.told(4), 0);
         Check.dueThrow("the number at 0", Check.INDEX, () -> x.found(0, 0));
         Check.dueThrow("the bits at 0", Check.INDEX, () -> x.found(0, 1));
@@ -141,14 +141,14 @@ public final class NearTest {
 
     /** No number is there, so none is near. */
     private static void noneIsFoundOfNone() {
-        ContentLibrary x = new ContentLibrary(5);
+        Library x = new Library(5);
         Check.due("near", x.near(withBits(x, 5), 64), 0);
         Check.due("told", x.told(4), 0);
         Check.dueThrow("found", Check.INDEX, () -> x.found(0, 0));
     }
 
-    private static ContentLibrary sixteen() {
-        ContentLibrary x = new ContentLibrary(40);
+    private static Library sixteen() {
+        Library x = new Library(40);
         for (int i = 0; i < 16; i++) {
             Check.keep(x, 2, 1, 100 - i, i % 2 == 0 ? 1 : -1);
         }
@@ -157,7 +157,7 @@ public final class NearTest {
 
     /** As many as there can be, with those of the same bits by their numbers. */
     private static void sixteenAreFound() {
-        ContentLibrary x = sixteen();
+        Library x = sixteen();
         Check.due("near", x.near(Check.make(x, 2, 1, 5, -1), 64), 16);
         dueFound(x, "sixteen", 1, 0, 3, 0, 5, 0, 7, 0, 9, 0, 11, 0, 13, 0, 15, 0,
                 0, 64, 2, 64, 4, 64, 6, 64, 8, 64, 10, 64, 12, 64, 14, 64);
@@ -167,7 +167,7 @@ public final class NearTest {
 
     /** "in at most so many bits": 0 and 64 are bounds. */
     private static void theLeastAndTheMostBound() {
-        ContentLibrary x = sixteen();
+        Library x = sixteen();
         int picture = Check.make(x, 2, 1, 5, -1);
         Check.dueThrow("-1", Check.ARGUMENT, () -> x.near(picture, -1));
         Check.due("0", x.near(picture, 0), 8);
@@ -179,14 +179,14 @@ public final class NearTest {
 
     /** 0 bits differ. */
     private static void aPictureThatIsThereIsNearestToItself() {
-        ContentLibrary x = libraryOf(7, 6, 5);
+        Library x = libraryOf(7, 6, 5);
         Check.due("near", x.near(withBits(x, 5), 0), 1);
         dueFound(x, "itself", 2, 0);
     }
 
     /** Those found last may be none. */
     private static void noneFoundTakesThePlaceOfSome() {
-        ContentLibrary x = libraryOf(7, 6, 5);
+        Library x = libraryOf(7, 6, 5);
         Check.due("some", x.near(withBits(x, 5), 64), 3);
         Check.due("none", x.near(withBits(x, 40), 0), 0);
         dueFound(x, "none");
@@ -195,7 +195,7 @@ public final class NearTest {
 
     /** "nothing is there but the blocks" */
     private static void noneIsFoundBehindACut() {
-        ContentLibrary x = libraryOf(7, 6, 5);
+        Library x = libraryOf(7, 6, 5);
         x.near(withBits(x, 5), 64);
         x.fuse(0);
         Check.due("drop", x.drop(0), ContentLibrary.CUT);

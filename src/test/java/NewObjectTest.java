@@ -15,6 +15,7 @@ public final class NewObjectTest {
         toldWhenAllIsFull();
         toldOfAFuse();
         otherWhatsAreNoneWhenCut();
+        allOf512CallsAnswer();
         Check.finish();
     }
 
@@ -23,7 +24,7 @@ public final class NewObjectTest {
         int[][] cases = {{Integer.MIN_VALUE, 1}, {-1, 1}, {0, 1}, {1, 1}, {2, 2}, {39, 39}, {40, 40}, {41, 40},
             {Integer.MAX_VALUE, 40}};
         for (int[] c : cases) {
-            ContentLibrary x = new ContentLibrary(c[0]);
+            Library x = new Library(c[0]);
             Check.dueTold(x, "made with " + c[0], c[1], c[1], 0, 0, 0, 0, -1);
             Check.due("the last block's last byte", x.byteAt(c[1] - 1, 63), 0);
             Check.dueThrow("the block behind the last", Check.INDEX, () -> x.byteAt(c[1], 0));
@@ -32,8 +33,8 @@ public final class NewObjectTest {
 
     /** "all their bytes 0: no picture is there or being made" */
     private static void aNewObjectIsEmpty() {
-        ContentLibrary x = new ContentLibrary(40);
-        Check.due("bytes that are not 0", Arrays.stream(Check.allBytes(x)).filter(b -> b != 0).count(), 0);
+        Library x = new Library(40);
+        Check.due("bytes that are not 0", Arrays.stream(Look.bytes(x)).filter(b -> b != 0).count(), 0);
         for (int i = -1; i <= 16; i++) {
             int number = i;
             Check.dueThrow("digest(" + i + ", 0)", Check.INDEX, () -> x.digest(number, 0));
@@ -46,7 +47,7 @@ public final class NewObjectTest {
     }
 
     private static void toldFollowsWhatHappens() {
-        ContentLibrary x = new ContentLibrary(10);
+        Library x = new Library(10);
         Check.keep(x, 2, 2, 1, 1);
         Check.keep(x, 8, 8, 1, 1);
         Check.dueTold(x, "two kept", 10, 5, 2, 0, 0, 0, -1);
@@ -65,7 +66,7 @@ public final class NewObjectTest {
 
     /** "(1 to 4 are 0 when it is cut.)" */
     private static void toldOfACutLibrary() {
-        ContentLibrary x = new ContentLibrary(10);
+        Library x = new Library(10);
         Check.keep(x, 2, 2, 1, 1);
         int picture = Check.make(x, 3, 3, 9, 9);
         x.near(picture, 64);
@@ -78,26 +79,26 @@ public final class NewObjectTest {
 
     /** "NONE for another what" */
     private static void otherWhatsAreNone() {
-        ContentLibrary x = new ContentLibrary(3);
+        Library x = new Library(3);
         for (int what : new int[] {Integer.MIN_VALUE, -2, -1, 7, 8, Integer.MAX_VALUE}) {
             Check.due("told(" + what + ")", x.told(what), ContentLibrary.NONE);
         }
     }
 
     private static void objectsAreApart() {
-        ContentLibrary x = new ContentLibrary(5);
-        ContentLibrary y = new ContentLibrary(5);
-        String before = Check.seen(y);
+        Library x = new Library(5);
+        Library y = new Library(5);
+        String before = Look.seen(y);
         Check.keep(x, 2, 2, 1, 1);
         Check.make(x, 2, 2, 1, 1);
         x.fuse(3);
-        Check.dueSame("another object", before, Check.seen(y));
+        Check.dueSame("another object", before, Look.seen(y));
     }
 
     /** "of 64 bytes each, at first 0" */
     private static void aBlockHas64Bytes() {
         for (int blocks : new int[] {1, 40}) {
-            ContentLibrary x = new ContentLibrary(blocks);
+            Library x = new Library(blocks);
             for (int block = 0; block < blocks; block++) {
                 int last = block;
                 Check.due("the last byte of block " + last, x.byteAt(last, 63), 0);
@@ -109,7 +110,7 @@ public final class NewObjectTest {
     /** "no picture is there or being made" */
     private static void nothingIsThereAtFirst() {
         for (int blocks : new int[] {1, 40}) {
-            ContentLibrary x = new ContentLibrary(blocks);
+            Library x = new Library(blocks);
             Check.due("nothing bad", x.badAt(), ContentLibrary.NONE);
             Check.due("nothing to sweep", x.sweep(), 0);
             Check.due("nothing to open", x.reopen(), 0);
@@ -117,13 +118,13 @@ public final class NewObjectTest {
             Check.due("it has no samples", x.samples(0, 1, 5, 0), 1);
             Check.due("none is near", x.near(0, 64), 0);
         }
-        ContentLibrary x = new ContentLibrary(2);
+        Library x = new Library(2);
         Check.due("the first number", Check.keep(x, 1, 1, 5, 0), 0);
     }
 
     /** "and there is no fuse": all may be written, and again. */
     private static void thereIsNoFuseAtFirst() {
-        ContentLibrary x = new ContentLibrary(40);
+        Library x = new Library(40);
         Check.due("told", x.told(6), ContentLibrary.NONE);
         for (int round = 0; round < 4; round++) {
             for (int i = 0; i < 13; i++) {
@@ -138,7 +139,7 @@ public final class NewObjectTest {
 
     /** Eight being made, sixteen there, sixteen found, and no block free. */
     private static void toldWhenAllIsFull() {
-        ContentLibrary x = new ContentLibrary(32);
+        Library x = new Library(32);
         for (int i = 0; i < 16; i++) {
             Check.keep(x, 1, 1, i, 0);
         }
@@ -151,7 +152,7 @@ public final class NewObjectTest {
 
     /** "bytes to the fuse's end, NONE without one, 0 when it has ended" */
     private static void toldOfAFuse() {
-        ContentLibrary x = new ContentLibrary(4);
+        Library x = new Library(4);
         Check.due("without one", x.told(6), ContentLibrary.NONE);
         x.fuse(131);
         Check.due("set", x.told(6), 131);
@@ -171,11 +172,26 @@ public final class NewObjectTest {
 
     /** "NONE for another what" */
     private static void otherWhatsAreNoneWhenCut() {
-        ContentLibrary x = new ContentLibrary(3);
+        Library x = new Library(3);
         x.fuse(0);
         Check.keep(x, 1, 1, 1, 0);
         for (int what : new int[] {Integer.MIN_VALUE, -2, -1, 7, 8, Integer.MAX_VALUE}) {
             Check.due("cut: told(" + what + ")", x.told(what), ContentLibrary.NONE);
         }
+    }
+
+    /** "An object is used for at most 512 calls after it has been made": up to the last of them all is as told. */
+    private static void allOf512CallsAnswer() {
+        ContentLibrary x = new ContentLibrary(40);
+        for (int i = 0; i < 127; i++) {
+            Check.due("picture", x.picture(8, 8), 0);
+            Check.due("samples", x.samples(0, 64, i, 1), 64);
+            Check.due("keep", x.keep(0), 0);
+            Check.due("drop", x.drop(0), 3);
+        }
+        Check.due("call 509", x.picture(1, 1), 0);
+        Check.due("call 510", x.samples(0, 1, 7, 0), 1);
+        Check.due("call 511", x.keep(0), 0);
+        Check.due("call 512", x.sample(0, 0, 0), 7);
     }
 }

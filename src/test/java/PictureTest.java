@@ -25,7 +25,7 @@ public final class PictureTest {
 
     /** "at the least number that is free" */
     private static void numbersAreTheLeastFree() {
-        ContentLibrary x = new ContentLibrary(40);
+        Library x = new Library(40);
         for (int i = 0; i < 8; i++) {
             Check.due("picture " + i, Check.make(x, 1, 1, 10 * i, 0), i);
         }
@@ -38,13 +38,13 @@ public final class PictureTest {
 
     /** "IllegalArgument: its sizes." */
     private static void sizesAreOneToEight() {
-        ContentLibrary x = new ContentLibrary(5);
+        Library x = new Library(5);
         for (int side : new int[] {Integer.MIN_VALUE, -1, 0, 9, 256, Integer.MAX_VALUE}) {
             Check.dueRefusal(x, "picture(" + side + ", 1)", Check.ARGUMENT, () -> x.picture(side, 1));
             Check.dueRefusal(x, "picture(1, " + side + ")", Check.ARGUMENT, () -> x.picture(1, side));
         }
         for (int side = 1; side <= 8; side++) {
-            ContentLibrary y = new ContentLibrary(5);
+            Library y = new Library(5);
             Check.due("picture", y.picture(side, 9 - side), 0);
             Check.due("its samples", y.samples(0, 1000, 0, 0), side * (9 - side));
         }
@@ -52,7 +52,7 @@ public final class PictureTest {
 
     /** "UnsupportedOperation: there are eight." */
     private static void eightAreTheMost() {
-        ContentLibrary x = new ContentLibrary(5);
+        Library x = new Library(5);
         for (int i = 0; i < 8; i++) {
             x.picture(8, 8);
         }
@@ -61,7 +61,7 @@ public final class PictureTest {
     }
 
     private static void samplesComeRowByRow() {
-        ContentLibrary x = new ContentLibrary(5);
+        Library x = new Library(5);
         x.picture(3, 2);
         Check.due("two come", x.samples(0, 2, 10, 5), 2);
         Check.due("three more", x.samples(0, 3, 100, -1), 5);
@@ -75,7 +75,7 @@ public final class PictureTest {
 
     /** "n or as many as it wants": as many as an int can say, and then none. */
     private static void samplesStopAtWhole() {
-        ContentLibrary x = new ContentLibrary(5);
+        Library x = new Library(5);
         x.picture(2, 2);
         Check.due("more than it wants", x.samples(0, Integer.MAX_VALUE, 1, 1), 4);
         Check.due("none is wanted", x.samples(0, 1, 99, 1), 4);
@@ -89,7 +89,7 @@ public final class PictureTest {
         int[][] cases = {{250, 3}, {-1, -1}, {-300, 7}, {256, 256}, {Integer.MAX_VALUE, 1}, {Integer.MIN_VALUE, -1},
             {5, Integer.MAX_VALUE}, {5, Integer.MIN_VALUE}};
         for (int[] c : cases) {
-            ContentLibrary x = new ContentLibrary(5);
+            Library x = new Library(5);
             Check.keep(x, 8, 8, c[0], c[1]);
             for (int i = 0; i < 64; i++) {
                 long value = Math.floorMod((long) c[0] + (long) i * c[1], 256L);
@@ -100,7 +100,7 @@ public final class PictureTest {
 
     /** "IllegalArgument: n is below 1." */
     private static void samplesRefuse() {
-        ContentLibrary x = new ContentLibrary(5);
+        Library x = new Library(5);
         x.picture(2, 2);
         for (int n : new int[] {0, -1, Integer.MIN_VALUE}) {
             Check.dueRefusal(x, "samples(0, " + n + ", 1, 1)", Check.ARGUMENT, () -> x.samples(0, n, 1, 1));
@@ -113,7 +113,7 @@ public final class PictureTest {
     }
 
     private static void nothingWhenCut() {
-        ContentLibrary x = new ContentLibrary(5);
+        Library x = new Library(5);
         int picture = Check.make(x, 1, 1, 1, 1);
         x.picture(1, 1);
         x.fuse(0);
@@ -130,7 +130,7 @@ public final class PictureTest {
     private static void everySizeFromOneToEight() {
         for (int width = 1; width <= 8; width++) {
             for (int height = 1; height <= 8; height++) {
-                ContentLibrary x = new ContentLibrary(1);
+                Library x = new Library(1);
                 Check.due("picture", x.picture(width, height), 0);
                 Check.due("all its samples", x.samples(0, 65, 0, 0), width * height);
             }
@@ -139,7 +139,7 @@ public final class PictureTest {
 
     /** "UnsupportedOperation: there are eight": seven are not, and seven again are not. */
     private static void anEighthAndThenRoomAgain() {
-        ContentLibrary x = new ContentLibrary(40);
+        Library x = new Library(40);
         for (int i = 0; i < 7; i++) {
             Check.make(x, 1, 1, i, 0);
         }
@@ -154,7 +154,7 @@ public final class PictureTest {
 
     /** "A call that throws changes nothing." */
     private static void aRefusedPictureTakesNoNumber() {
-        ContentLibrary x = new ContentLibrary(4);
+        Library x = new Library(4);
         Check.dueThrow("no width", Check.ARGUMENT, () -> x.picture(0, 8));
         Check.dueThrow("no height", Check.ARGUMENT, () -> x.picture(8, 9));
         Check.due("none is being made", x.told(3), 0);
@@ -163,7 +163,7 @@ public final class PictureTest {
 
     /** "pictures being made .. go" */
     private static void picturesGoWhenReopened() {
-        ContentLibrary x = new ContentLibrary(4);
+        Library x = new Library(4);
         for (int i = 0; i < 8; i++) {
             Check.make(x, 2, 2, i, 0);
         }
@@ -175,7 +175,7 @@ public final class PictureTest {
 
     /** n is 1, the least. */
     private static void aSampleAtATime() {
-        ContentLibrary x = new ContentLibrary(4);
+        Library x = new Library(4);
         x.picture(8, 8);
         for (int i = 1; i <= 64; i++) {
             Check.due("sample " + i, x.samples(0, 1, i, 99), i);
@@ -189,7 +189,7 @@ public final class PictureTest {
 
     /** "n or as many as it wants" */
     private static void exactlyAsManyAsItWants() {
-        ContentLibrary x = new ContentLibrary(4);
+        Library x = new Library(4);
         x.picture(3, 2);
         Check.due("one less", x.samples(0, 5, 1, 1), 5);
         Check.due("the one", x.samples(0, 1, 6, 1), 6);
@@ -198,7 +198,7 @@ public final class PictureTest {
 
     /** "as many as it wants": the one too many does not come. */
     private static void oneMoreThanItWants() {
-        ContentLibrary x = new ContentLibrary(4);
+        Library x = new Library(4);
         x.picture(3, 2);
         Check.due("one more", x.samples(0, 7, 1, 1), 6);
         Check.due("the last is the sixth", x.keep(0), 0);
@@ -207,7 +207,7 @@ public final class PictureTest {
 
     /** "as many as it wants": of a picture that has some. */
     private static void allThatIsLeft() {
-        ContentLibrary x = new ContentLibrary(4);
+        Library x = new Library(4);
         x.picture(3, 2);
         Check.due("two", x.samples(0, 2, 1, 1), 2);
         Check.due("all that is left", x.samples(0, Integer.MAX_VALUE, 100, 1), 6);
@@ -218,7 +218,7 @@ public final class PictureTest {
 
     /** "0 .. 7": of eight pictures each has its own. */
     private static void samplesGoToTheirPictureAlone() {
-        ContentLibrary x = new ContentLibrary(40);
+        Library x = new Library(40);
         for (int i = 0; i < 8; i++) {
             x.picture(2, 1);
         }
@@ -238,10 +238,10 @@ public final class PictureTest {
         int[][] cases = {{0, 0}, {255, 255}, {256, 0}, {257, 1}, {511, 255}, {512, 0}, {-1, 255}, {-255, 1}, {-256, 0},
             {-257, 255}};
         for (int[] c : cases) {
-            ContentLibrary x = new ContentLibrary(2);
+            Library x = new Library(2);
             Check.keep(x, 1, 1, c[0], 0);
             Check.due("v " + c[0], x.sample(0, 0, 0), c[1]);
-            ContentLibrary y = new ContentLibrary(2);
+            Library y = new Library(2);
             Check.keep(y, 2, 1, 0, c[0]);
             Check.due("step " + c[0], y.sample(0, 1, 0), c[1]);
         }
@@ -249,7 +249,7 @@ public final class PictureTest {
 
     /** A sum that is no int has a rest by 256, too. */
     private static void samplesRunOverAtInts() {
-        ContentLibrary x = new ContentLibrary(40);
+        Library x = new Library(40);
         Check.keep(x, 3, 1, Integer.MAX_VALUE, Integer.MAX_VALUE);
         dueRow(x, 0, 255, 254, 253);
         Check.keep(x, 3, 1, Integer.MIN_VALUE, Integer.MIN_VALUE);
@@ -260,7 +260,7 @@ public final class PictureTest {
         dueRow(x, 3, 255, 1, 3);
     }
 
-    private static void dueRow(ContentLibrary x, int number, int... wanted) {
+    private static void dueRow(Library x, int number, int... wanted) {
         for (int i = 0; i < wanted.length; i++) {
             Check.due("sample " + i + " of " + number, x.sample(number, i, 0), wanted[i]);
         }

@@ -21,7 +21,7 @@ record Scene(String name, int blocks, Consumer<Calls> making) {
     }
 
     Calls real() {
-        Calls calls = Calls.of(new ContentLibrary(blocks));
+        Calls calls = new Library(blocks);
         making.accept(calls);
         return calls;
     }
@@ -32,27 +32,17 @@ record Scene(String name, int blocks, Consumer<Calls> making) {
         return calls;
     }
 
-    static int make(Calls c, int width, int height, int v, int step) {
-        int picture = c.picture(width, height);
-        c.samples(picture, width * height, v, step);
-        return picture;
-    }
-
-    static int keep(Calls c, int width, int height, int v, int step) {
-        return c.keep(make(c, width, height, v, step));
-    }
-
     /** Numbers 0, 1 and 3; pictures 0 (whole), 1 (half), 2 (none), 3 (whole, and there as 0); all found; old bytes. */
     private static void makeBusy(Calls c) {
-        keep(c, 3, 2, 10, 40);
-        keep(c, 8, 8, 0, 3);
-        keep(c, 1, 1, 9, 0);
-        keep(c, 2, 1, 4, 9);
+        Check.keep(c, 3, 2, 10, 40);
+        Check.keep(c, 8, 8, 0, 3);
+        Check.keep(c, 1, 1, 9, 0);
+        Check.keep(c, 2, 1, 4, 9);
         c.drop(2);
-        make(c, 4, 4, 1, 17);
+        Check.make(c, 4, 4, 1, 17);
         c.samples(c.picture(2, 2), 2, 250, 3);
         c.picture(8, 8);
-        make(c, 3, 2, 10, 40);
+        Check.make(c, 3, 2, 10, 40);
         c.poke(10, 5, 2);
         c.poke(11, 63, 129);
         c.near(0, 64);
@@ -60,7 +50,7 @@ record Scene(String name, int blocks, Consumer<Calls> making) {
     }
 
     private static void makeEight(Calls c) {
-        keep(c, 3, 2, 10, 40);
+        Check.keep(c, 3, 2, 10, 40);
         for (int i = 0; i < 8; i++) {
             c.samples(c.picture(1 + i, 8 - i), 1 + 2 * i, i, 30);
         }
@@ -71,10 +61,10 @@ record Scene(String name, int blocks, Consumer<Calls> making) {
     /** Pictures 0 (whole), 1 (whole, and there as 15) and 2 (none). */
     private static void makeSixteen(Calls c) {
         for (int i = 0; i < 16; i++) {
-            keep(c, 2, 1, 5 * i, 7 - i);
+            Check.keep(c, 2, 1, 5 * i, 7 - i);
         }
-        make(c, 5, 5, 1, 11);
-        make(c, 2, 1, 75, -8);
+        Check.make(c, 5, 5, 1, 11);
+        Check.make(c, 2, 1, 75, -8);
         c.picture(2, 2);
         c.near(0, 64);
         if (c.told(1) > 0) {
@@ -84,11 +74,11 @@ record Scene(String name, int blocks, Consumer<Calls> making) {
 
     /** Pictures 0 (whole, of two blocks with its mark), 1 (whole, of three), 2 (whole, and there as 1), 3 (half). */
     private static void makeTwoSmall(Calls c) {
-        keep(c, 3, 2, 10, 40);
-        keep(c, 7, 7, 10, 40);
-        make(c, 1, 1, 5, 0);
-        make(c, 7, 8, 5, 1);
-        make(c, 7, 7, 10, 40);
+        Check.keep(c, 3, 2, 10, 40);
+        Check.keep(c, 7, 7, 10, 40);
+        Check.make(c, 1, 1, 5, 0);
+        Check.make(c, 7, 8, 5, 1);
+        Check.make(c, 7, 7, 10, 40);
         c.samples(c.picture(2, 2), 3, 0, 1);
         c.near(1, 64);
         for (int block = 4; block < c.told(0); block++) {
