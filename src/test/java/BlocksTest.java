@@ -87,12 +87,17 @@ public final class BlocksTest {
         dueBad("kind 2", true, 2, 0, 0, 0);
         dueBad("kind 3", true, 3, 0, 0, 0);
         dueBad("kind 4", false, 4, 0, 0, 0);
+        dueBad("kind 5", false, 5, 0, 0, 0);
         dueBad("kind 255", false, 255, 0, 0, 0);
         dueBad("number 15", true, 1, 15, 0, 0);
         dueBad("number 16", false, 1, 16, 0, 0);
+        dueBad("number 17", false, 2, 17, 0, 0);
+        dueBad("number 255", false, 3, 255, 0, 0);
         dueBad("which 255", true, 1, 0, 255, 0);
         dueBad("56 bytes", true, 1, 0, 0, 56);
         dueBad("57 bytes", false, 1, 0, 0, 57);
+        dueBad("58 bytes", false, 2, 0, 0, 58);
+        dueBad("255 bytes", false, 3, 0, 0, 255);
         for (int i = 0; i < 64; i++) {
             Library x = new Library(6);
             Check.forge(x, 4, Check.block(4, 1, 2, 3, 4, 5, 6, 7));
